@@ -792,7 +792,7 @@ public final class ChipFlow {
             }
             int b = bytes[next];
             boolean good;
-            if (isLetter(b)) {
+            if ((b | 32) >= 'a' && (b | 32) <= 'z' || b == '_') {
                 good = readName();
             } else if (b >= '0' && b <= '9') {
                 good = readNumber();
@@ -802,10 +802,6 @@ public final class ChipFlow {
             if (!good) {
                 fail(1, start);
             }
-        }
-
-        private static boolean isLetter(int b) {
-            return (b | 32) >= 'a' && (b | 32) <= 'z' || b == '_';
         }
 
         private void skipBlanks() {
@@ -827,7 +823,8 @@ public final class ChipFlow {
             long letters = 0;
             while (next < length) {
                 int b = bytes[next];
-                if (!isLetter(b) && (b < '0' || b > '9')) {
+                boolean letter = (b | 32) >= 'a' && (b | 32) <= 'z' || b == '_';
+                if (!letter && (b < '0' || b > '9')) {
                     break;
                 }
                 // A long has room for eight letters; no word has more, so longer names need no number.
@@ -949,22 +946,36 @@ public final class ChipFlow {
             codeSize = 0;
             moduleCode[0] = 0;
             text.begin();
-            for (int guard = 0; guard <= MODULES && (modules == 0 || text.kind != Text.END); guard++) {
-                text.need(Text.MODULE);
-                int fresh = newModuleName();
-                text.need('{');
-                moduleNames[modules] = 0;
-                for (int items = 0; items < Text.SIZE && text.kind != '}'; items++) {
-                    readItem();
+            beginModule();
+            boolean more = true;
+            for (int guard = 0; guard < Text.SIZE && more; guard++) {
+                switch (text.kind) {
+                    case Text.IN:
+                        readInput();
+                        break;
+                    case Text.OUT:
+                        readValue(OUTPUT);
+                        break;
+                    case Text.LET:
+                        readValue(LOCAL);
+                        break;
+                    case Text.REG:
+                        readRegister();
+                        break;
+                    case Text.USE:
+                        readUse();
+                        break;
+                    case Text.NAME:
+                        readNext();
+                        break;
+                    default:
+                        more = endModule();
                 }
-                text.need('}');
-                moduleName[modules] = fresh;
-                modules++;
-                moduleCode[modules] = codeSize;
             }
         }
 
-        private int newModuleName() {
+        private void beginModule() {
+            text.need(Text.MODULE);
             if (text.kind != Text.NAME) {
                 text.fail(2, text.start);
             }
@@ -975,8 +986,22 @@ public final class ChipFlow {
             if (modules == MODULES) {
                 text.fail(15, text.start);
             }
+            moduleName[modules] = fresh;
+            moduleNames[modules] = 0;
             text.advance();
-            return fresh;
+            text.need('{');
+        }
+
+        /** A module is told behind its end: whether another one begins there. */
+        private boolean endModule() {
+            text.need('}');
+            modules++;
+            moduleCode[modules] = codeSize;
+            if (text.kind == Text.END) {
+                return false;
+            }
+            beginModule();
+            return true;
         }
 
         private int findModule(int wanted) {
@@ -995,31 +1020,6 @@ public final class ChipFlow {
                 }
             }
             return NONE;
-        }
-
-        private void readItem() {
-            switch (text.kind) {
-                case Text.IN:
-                    readInput();
-                    break;
-                case Text.OUT:
-                    readValue(OUTPUT);
-                    break;
-                case Text.LET:
-                    readValue(LOCAL);
-                    break;
-                case Text.REG:
-                    readRegister();
-                    break;
-                case Text.USE:
-                    readUse();
-                    break;
-                case Text.NAME:
-                    readNext();
-                    break;
-                default:
-                    text.fail(2, text.start);
-            }
         }
 
         private int newName() {
@@ -1259,7 +1259,15 @@ public final class ChipFlow {
             boolean more = true;
             for (int guard = 0; guard < Text.SIZE && more; guard++) {
                 boolean turned = readOpenings();
-                readPrimary();
+                if (library == null && text.kind == Text.NUMBER) {
+                    readConstant();
+                } else if (text.kind != Text.NAME) {
+                    text.fail(2, text.start);
+                } else if (library == null) {
+                    readNamed();
+                } else {
+                    readCellInput();
+                }
                 if (turned) {
                     turnHeld();
                 }
@@ -1322,18 +1330,6 @@ public final class ChipFlow {
             }
         }
 
-        private void readPrimary() {
-            if (library == null && text.kind == Text.NUMBER) {
-                readConstant();
-            } else if (text.kind != Text.NAME) {
-                text.fail(2, text.start);
-            } else if (library == null) {
-                readNamed();
-            } else {
-                readCellInput();
-            }
-        }
-
         private void readCellInput() {
             int input = find(1, text.packedName());
             if (input == NONE) {
@@ -1347,7 +1343,10 @@ public final class ChipFlow {
             int place = text.start;
             int value = text.value;
             text.advance();
-            text.need('@');
+            if (text.kind != '@') {
+                text.fail(2, text.start);
+            }
+            text.advance();
             if (text.kind != Text.NUMBER) {
                 text.fail(2, text.start);
             }
@@ -1385,7 +1384,8 @@ public final class ChipFlow {
             }
             int wide = width[at];
             if (part) {
-                wide = readPart(symbol, detail[at]);
+                wide = namePart(symbol, detail[at]);
+                text.advance();
                 dot = text.kind == '.';
                 if (dot) {
                     text.advance();
@@ -1394,23 +1394,24 @@ public final class ChipFlow {
                 emit(LOAD, symbol, 0);
             }
             if (dot) {
-                readBit(wide);
+                nameBit(wide);
+                text.advance();
             }
             hold(dot ? 1 : wide);
         }
 
-        private int readPart(int symbol, int module) {
+        /** The output of an instance that is at hand: its width. */
+        private int namePart(int symbol, int module) {
             int output = find(module, text.packedName());
             int at = module * NAMES + output;
             if (output == NONE || sort[at] != OUTPUT) {
                 text.fail(11, text.start);
             }
-            text.advance();
             emit(PART, symbol, output);
             return width[at];
         }
 
-        private void readBit(int wide) {
+        private void nameBit(int wide) {
             if (text.kind != Text.NUMBER) {
                 text.fail(2, text.start);
             }
@@ -1418,10 +1419,12 @@ public final class ChipFlow {
                 text.fail(12, text.start);
             }
             emit(BIT, text.value, 0);
-            text.advance();
         }
 
-        /** Reads what stands behind a primary: whether another one must follow. */
+        /**
+         * Reads what stands behind a primary: whether another one must follow. Markers of what is
+         * open lie below 0 among the operators, so working these out stops there.
+         */
         private boolean readOperators() {
             boolean ended = false;
             for (int guard = 0; guard < Text.SIZE; guard++) {
@@ -1438,16 +1441,18 @@ public final class ChipFlow {
                 applyFrom(OR);
                 if (text.kind == '?' && library == null) {
                     askChoice();
+                    text.advance();
                     return true;
                 }
                 ended = true;
                 int marker = topKind();
                 if (marker == PAREN || marker == TURNED_PAREN) {
                     closeParen(marker);
+                    text.advance();
                     ended = false;
                 } else if (marker == QUESTION) {
-                    text.need(':');
-                    opKind[opTop - 1] = COLON;
+                    turnToColon();
+                    text.advance();
                     return true;
                 } else if (marker == COLON) {
                     finishChoice();
@@ -1497,11 +1502,19 @@ public final class ChipFlow {
             if (held[heldTop - 1] != 1) {
                 text.fail(13, text.start);
             }
-            text.advance();
+        }
+
+        private void turnToColon() {
+            if (text.kind != ':') {
+                text.fail(2, text.start);
+            }
+            opKind[opTop - 1] = COLON;
         }
 
         private void closeParen(int marker) {
-            text.need(')');
+            if (text.kind != ')') {
+                text.fail(2, text.start);
+            }
             opTop--;
             open--;
             if (marker == TURNED_PAREN) {
@@ -2531,7 +2544,7 @@ public final class ChipFlow {
         final int[] rowOf = new int[ELEMENTS];
         final int[] sizeOf = new int[ELEMENTS];
         final int[] pinNet = new int[PINS];
-        final int[] pinNext = new int[PINS];
+        final int[] pinsByNet = new int[PINS];
         final int[] firstPin = new int[Chip.NETS];
         final int[] netPins = new int[Chip.NETS];
         final int[] netWire = new int[Chip.NETS];
@@ -2549,7 +2562,6 @@ public final class ChipFlow {
             loseWires();
             timeStamp++;
             Arrays.fill(pinNet, NONE);
-            Arrays.fill(firstPin, NONE);
             Arrays.fill(netPins, 0);
             Arrays.fill(netWire, 0);
             for (int r = 0; r < c.registers; r++) {
@@ -2572,15 +2584,35 @@ public final class ChipFlow {
             for (int k = 0; k < c.outputs; k++) {
                 setPin(OUTPUT_PINS + k, c.outNet[k]);
             }
+            listPins();
         }
 
         private void setPin(int pin, int net) {
             if (net >= 0) {
                 pinNet[pin] = net;
-                pinNext[pin] = firstPin[net];
-                firstPin[net] = pin;
                 netPins[net]++;
             }
+        }
+
+        private void listPins() {
+            int behind = 0;
+            for (int net = 0; net < Chip.NETS; net++) {
+                firstPin[net] = behind;
+                behind += netPins[net];
+                netPins[net] = 0;
+            }
+            for (int pin = 0; pin < PINS; pin++) {
+                int net = pinNet[pin];
+                if (net != NONE) {
+                    pinsByNet[firstPin[net] + netPins[net]] = pin;
+                    netPins[net]++;
+                }
+            }
+        }
+
+        /** Pin k of a net, by the order of all pins. */
+        int pinAt(int net, int k) {
+            return pinsByNet[firstPin[net] + k];
         }
 
         private void loseWires() {
@@ -2650,17 +2682,16 @@ public final class ChipFlow {
         }
 
         private int wireOf(int net) {
-            int first = firstPin[net];
-            if (first == NONE) {
+            if (netPins[net] < 2) {
                 return 0;
             }
-            int west = pinX(first);
-            int east = west;
-            int north = pinY(first);
-            int south = north;
-            for (int pin = pinNext[first]; pin != NONE; pin = pinNext[pin]) {
-                int x = pinX(pin);
-                int y = pinY(pin);
+            int west = POINTS;
+            int east = 0;
+            int north = POINTS;
+            int south = 0;
+            for (int k = 0; k < netPins[net]; k++) {
+                int x = pinX(pinAt(net, k));
+                int y = pinY(pinAt(net, k));
                 west = Math.min(west, x);
                 east = Math.max(east, x);
                 north = Math.min(north, y);
@@ -2830,8 +2861,8 @@ public final class ChipFlow {
         private void keepPins(int nets) {
             Arrays.fill(kept, NONE);
             for (int net = 0; net < nets; net++) {
-                for (int pin = board.firstPin[net]; pin != NONE; pin = board.pinNext[pin]) {
-                    kept[board.pinPoint(pin)] = net;
+                for (int k = 0; k < board.netPins[net]; k++) {
+                    kept[board.pinPoint(board.pinAt(net, k))] = net;
                 }
             }
         }
@@ -2880,8 +2911,8 @@ public final class ChipFlow {
         /** The pin with the least number, at that distance, that is not in the tree (NONE: at any). */
         private int nearestPin(int net, int at) {
             int least = NONE;
-            for (int pin = board.firstPin[net]; pin != NONE; pin = board.pinNext[pin]) {
-                int p = board.pinPoint(pin);
+            for (int k = 0; k < board.netPins[net]; k++) {
+                int p = board.pinPoint(board.pinAt(net, k));
                 boolean wanted = board.owner[p] != net && (at == NONE || distance[p] == at);
                 if (wanted && (least == NONE || p < least)) {
                     least = p;
@@ -2909,7 +2940,7 @@ public final class ChipFlow {
          * on that point alone, so two queues, one a price, keep all points in order.
          */
         private int spread(int net, boolean robbing) {
-            Arrays.fill(distance, NONE);
+            Arrays.fill(distance, 0, 2 * layerSize, NONE);
             System.arraycopy(tree, 0, near, 0, treeSize);
             for (int i = 0; i < treeSize; i++) {
                 distance[tree[i]] = 0;
@@ -2939,21 +2970,40 @@ public final class ChipFlow {
         }
 
         private void spreadFrom(int p, int net, boolean robbing) {
-            for (int side = 0; side < 5; side++) {
-                int q = neighbour(p, side);
-                boolean usable = q != NONE && distance[q] == NONE && (kept[q] == NONE || kept[q] == net)
-                        && (robbing || board.owner[q] == NONE);
-                if (usable) {
-                    int price = priceOf(q, net);
-                    distance[q] = distance[p] + price;
-                    if (price == 1) {
-                        near[nearTail] = q;
-                        nearTail++;
-                    } else {
-                        far[farTail] = q;
-                        farTail++;
-                    }
+            int behind = distance[p];
+            if (p < layerSize) {
+                int x = width > 0 ? p % width : 0;
+                if (x > 0) {
+                    reach(p - 1, behind, net, robbing);
                 }
+                if (x < width - 1) {
+                    reach(p + 1, behind, net, robbing);
+                }
+                reach(p + layerSize, behind, net, robbing);
+            } else {
+                int flat = p - layerSize;
+                if (flat >= width) {
+                    reach(p - width, behind, net, robbing);
+                }
+                if (flat < layerSize - width) {
+                    reach(p + width, behind, net, robbing);
+                }
+                reach(flat, behind, net, robbing);
+            }
+        }
+
+        private void reach(int q, int behind, int net, boolean robbing) {
+            if (distance[q] != NONE || kept[q] != NONE && kept[q] != net) {
+                return;
+            }
+            if (board.owner[q] == NONE) {
+                distance[q] = behind + 1;
+                near[nearTail] = q;
+                nearTail++;
+            } else if (robbing) {
+                distance[q] = behind + ROB_PRICE;
+                far[farTail] = q;
+                farTail++;
             }
         }
 
@@ -3023,6 +3073,7 @@ public final class ChipFlow {
         static final int BOXES = 2000;
         static final int STRIDE = 5;
         private static final int LEAST = 2;
+        private static final int SHORT_WORDS = 3;
 
         boolean drawn;
         int count;
@@ -3041,7 +3092,7 @@ public final class ChipFlow {
         private final int[] parent = new int[BOXES];
         private final int[] pinPart = new int[Board.PINS];
         private final int[] partPins = new int[BOXES];
-        private final int[] shorted = new int[Chip.NETS * Chip.NETS];
+        private final long[] shorted = new long[Chip.NETS * SHORT_WORDS];
 
         void forget() {
             judged = false;
@@ -3125,8 +3176,9 @@ public final class ChipFlow {
             if (goesOn) {
                 return;
             }
+            int room = layer == 0 ? width - 1 - x : board.height - 1 - y;
             int length = 0;
-            while (length < Board.POINTS && (board.steps[p + length * apart] & step) != 0) {
+            while (length < room && (board.steps[p + length * apart] & step) != 0) {
                 length++;
             }
             takeBox(board.owner[p], layer, x, y, layer == 0 ? x + length : x, layer == 0 ? y : y + length);
@@ -3139,27 +3191,30 @@ public final class ChipFlow {
             nextBox[net]++;
         }
 
-        private int gap(int a, int b, int side) {
-            int one = boxes[STRIDE * b + side] - boxes[STRIDE * a + side + 2];
-            int other = boxes[STRIDE * a + side] - boxes[STRIDE * b + side + 2];
-            return Math.max(0, Math.max(one, other));
-        }
-
         private boolean isThin(int box) {
             int at = STRIDE * box;
             return boxes[at + 3] - boxes[at + 1] < LEAST || boxes[at + 4] - boxes[at + 2] < LEAST;
         }
 
         private boolean isTooNear(int a, int b) {
-            if (boxes[STRIDE * a] != boxes[STRIDE * b]) {
+            int one = STRIDE * a;
+            int two = STRIDE * b;
+            if (boxes[one] != boxes[two]) {
                 return false;
             }
-            int across = gap(a, b, 1);
+            int across = Math.max(boxes[two + 1] - boxes[one + 3], boxes[one + 1] - boxes[two + 3]);
             if (across >= LEAST) {
                 return false;
             }
-            int along = gap(a, b, 2);
-            return along < LEAST && across + along > 0;
+            int along = Math.max(boxes[two + 2] - boxes[one + 4], boxes[one + 2] - boxes[two + 4]);
+            return along < LEAST && (across > 0 || along > 0);
+        }
+
+        private boolean isTouching(int a, int b) {
+            int one = STRIDE * a;
+            int two = STRIDE * b;
+            return boxes[one + 1] <= boxes[two + 3] && boxes[two + 1] <= boxes[one + 3]
+                    && boxes[one + 2] <= boxes[two + 4] && boxes[two + 2] <= boxes[one + 4];
         }
 
         void judge() {
@@ -3253,7 +3308,7 @@ public final class ChipFlow {
                 for (int b = a + 1; b < count; b++) {
                     int other = boxes[STRIDE * b];
                     boolean joins = layer == other ? layer < 2 : layer == 2 || other == 2;
-                    if (joins && gap(a, b, 1) == 0 && gap(a, b, 2) == 0) {
+                    if (joins && isTouching(a, b)) {
                         parent[topOf(a)] = topOf(b);
                     }
                 }
@@ -3296,27 +3351,29 @@ public final class ChipFlow {
 
         private void countShorts(Board board) {
             shorts = 0;
-            Arrays.fill(shorted, 0);
+            Arrays.fill(shorted, 0L);
             for (int p = 0; p < Board.PINS; p++) {
                 int one = board.pinNet[p];
                 for (int q = p + 1; one != NONE && q < Board.PINS; q++) {
                     int two = board.pinNet[q];
                     if (two != NONE && one != two && pinPart[p] == pinPart[q]) {
-                        int pair = Math.min(one, two) * Chip.NETS + Math.max(one, two);
-                        shorts += 1 - shorted[pair];
-                        shorted[pair] = 1;
+                        int least = Math.min(one, two);
+                        int most = Math.max(one, two);
+                        shorted[least * SHORT_WORDS + (most >> 6)] |= 1L << (most & 63);
                     }
                 }
+            }
+            for (int at = 0; at < shorted.length; at++) {
+                shorts += Long.bitCount(shorted[at]);
             }
         }
 
         private void countOpens(Board board) {
             opens = 0;
             for (int net = 0; net < Chip.NETS; net++) {
-                int first = board.firstPin[net];
                 int apart = 0;
-                for (int pin = first; pin != NONE; pin = board.pinNext[pin]) {
-                    if (pinPart[pin] != pinPart[first]) {
+                for (int k = 1; k < board.netPins[net]; k++) {
+                    if (pinPart[board.pinAt(net, k)] != pinPart[board.pinAt(net, 0)]) {
                         apart = 1;
                     }
                 }
@@ -3335,6 +3392,7 @@ public final class ChipFlow {
         private static final int END_NET = 10000;
         private static final int PATH_SIZE = Chip.GATES + 2;
         private static final int CHANGES = 20000;
+        private static final int NEVER = 0x7FFFFFFF;
 
         private final int[] time = new int[Chip.NETS];
         private final int[] arrive = new int[Chip.NETS];
@@ -3572,11 +3630,11 @@ public final class ChipFlow {
             int at1 = inputs > 1 ? waveFrom[net1] : waveFrom[net1 + 1];
             int at2 = inputs > 2 ? waveFrom[net2] : waveFrom[net2 + 1];
             for (int guard = 0; guard < 3 * CHANGES && !waveTooLong; guard++) {
-                int when0 = at0 < waveFrom[net0 + 1] ? change[at0] : Integer.MAX_VALUE;
-                int when1 = at1 < waveFrom[net1 + 1] ? change[at1] : Integer.MAX_VALUE;
-                int when2 = at2 < waveFrom[net2 + 1] ? change[at2] : Integer.MAX_VALUE;
+                int when0 = at0 < waveFrom[net0 + 1] ? change[at0] : NEVER;
+                int when1 = at1 < waveFrom[net1 + 1] ? change[at1] : NEVER;
+                int when2 = at2 < waveFrom[net2 + 1] ? change[at2] : NEVER;
                 int when = Math.min(when0, Math.min(when1, when2));
-                if (when == Integer.MAX_VALUE) {
+                if (when == NEVER) {
                     return;
                 }
                 state ^= (when0 == when ? 1 : 0) | (when1 == when ? 2 : 0) | (when2 == when ? 4 : 0);
