@@ -1384,7 +1384,7 @@ public final class ChipFlow {
             }
             int wide = width[at];
             if (part) {
-                wide = namePart(symbol, detail[at]);
+                wide = namePart(symbol, detail[at], find(detail[at], text.packedName()));
                 text.advance();
                 dot = text.kind == '.';
                 if (dot) {
@@ -1401,8 +1401,7 @@ public final class ChipFlow {
         }
 
         /** The output of an instance that is at hand: its width. */
-        private int namePart(int symbol, int module) {
-            int output = find(module, text.packedName());
+        private int namePart(int symbol, int module, int output) {
             int at = module * NAMES + output;
             if (output == NONE || sort[at] != OUTPUT) {
                 text.fail(11, text.start);
@@ -1440,7 +1439,8 @@ public final class ChipFlow {
                 }
                 applyFrom(OR);
                 if (text.kind == '?' && library == null) {
-                    askChoice();
+                    openUp(QUESTION);
+                    needCondition();
                     text.advance();
                     return true;
                 }
@@ -1497,8 +1497,7 @@ public final class ChipFlow {
             }
         }
 
-        private void askChoice() {
-            openUp(QUESTION);
+        private void needCondition() {
             if (held[heldTop - 1] != 1) {
                 text.fail(13, text.start);
             }
