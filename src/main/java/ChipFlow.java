@@ -1447,7 +1447,10 @@ public final class ChipFlow {
                 ended = true;
                 int marker = topKind();
                 if (marker == PAREN || marker == TURNED_PAREN) {
-                    closeParen(marker);
+                    closeParen();
+                    if (marker == TURNED_PAREN) {
+                        turnHeld();
+                    }
                     text.advance();
                     ended = false;
                 } else if (marker == QUESTION) {
@@ -1510,15 +1513,12 @@ public final class ChipFlow {
             opKind[opTop - 1] = COLON;
         }
 
-        private void closeParen(int marker) {
+        private void closeParen() {
             if (text.kind != ')') {
                 text.fail(2, text.start);
             }
             opTop--;
             open--;
-            if (marker == TURNED_PAREN) {
-                turnHeld();
-            }
         }
 
         private void finishChoice() {
