@@ -663,7 +663,7 @@ public final class ChipFlow {
         pairFrom[first] = NONE;
         pairQueue[0] = first;
         int tail = 1;
-        for (int head = 0; head < tail; head++) {
+        for (int head = 0; head < tail && head < PAIRS; head++) {
             int pair = pairQueue[head];
             int here = pair >> 6 << inputs;
             int there = (pair & 63) << inputs;
@@ -1975,7 +1975,7 @@ public final class ChipFlow {
             scratch[states] = design.beginning;
             scratch[design.beginning] = 1;
             int tail = 1;
-            for (int head = 0; head < tail; head++) {
+            for (int head = 0; head < tail && head < states; head++) {
                 int here = scratch[states + head] << design.inputs;
                 for (int input = 0; input < 1 << design.inputs; input++) {
                     int next = design.table[here | input] >> Design.OUTPUTS;
@@ -2195,7 +2195,7 @@ public final class ChipFlow {
             addMember(lowNode(n));
             addMember(highNode(n));
             addCut();
-            for (int i = 0; i < cutCount; i++) {
+            for (int i = 0; i < cutCount && i < CUTS; i++) {
                 for (int k = 0; k < 3; k++) {
                     int node = cuts[3 * i + k];
                     if (node != NONE && !isLeaf(node)) {
@@ -2268,7 +2268,7 @@ public final class ChipFlow {
         private int tableOver(int n, int cut) {
             inner[0] = n;
             int count = 1;
-            for (int i = 0; i < count; i++) {
+            for (int i = 0; i < count && i < inner.length; i++) {
                 int low = lowNode(inner[i]);
                 int high = highNode(inner[i]);
                 if (placeIn(cut, low) == NONE && count < inner.length) {
