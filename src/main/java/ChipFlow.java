@@ -882,7 +882,11 @@ public final class ChipFlow {
         static final int MODULES = 16;
         static final int NAMES = 40;
         private static final int CELL_INPUTS = 3;
+        /** Of a library, names stand in the rows of two modules: its cells, the inputs of the one at hand. */
+        private static final int CELL_ROW = 0;
+        private static final int INPUT_ROW = 1;
         private static final int MOST_OPEN = 60;
+        static final int MOST_WIDE = 8;
 
         static final int INPUT = 0;
         static final int OUTPUT = 1;
@@ -1022,15 +1026,16 @@ public final class ChipFlow {
             return NONE;
         }
 
-        private int newName() {
+        /** A name that is to be told among those of a row, of which there may be so many. */
+        private int newName(int row, int most) {
             if (text.kind != Text.NAME) {
                 text.fail(2, text.start);
             }
             int fresh = text.packedName();
-            if (find(modules, fresh) != NONE) {
+            if (find(row, fresh) != NONE) {
                 text.fail(10, text.start);
             }
-            if (moduleNames[modules] == NAMES) {
+            if (moduleNames[row] == most) {
                 text.fail(15, text.start);
             }
             text.advance();
@@ -1046,25 +1051,30 @@ public final class ChipFlow {
             moduleNames[modules]++;
         }
 
+        /** The number at hand, which is not taken yet: what lies behind it is met later. */
+        private int numberAtHand(int least, int most) {
+            if (text.kind != Text.NUMBER) {
+                text.fail(2, text.start);
+            }
+            if (text.value < least || text.value > most) {
+                text.fail(12, text.start);
+            }
+            return text.value;
+        }
+
         private int readWidth() {
             if (text.kind != ':') {
                 return 1;
             }
             text.advance();
-            if (text.kind != Text.NUMBER) {
-                text.fail(2, text.start);
-            }
-            int wide = text.value;
-            if (wide < 1 || wide > 8) {
-                text.fail(12, text.start);
-            }
+            int wide = numberAtHand(1, MOST_WIDE);
             text.advance();
             return wide;
         }
 
         private void readInput() {
             text.advance();
-            int fresh = newName();
+            int fresh = newName(modules, NAMES);
             int wide = readWidth();
             text.need(';');
             tell(fresh, INPUT, wide, 0);
@@ -1072,7 +1082,7 @@ public final class ChipFlow {
 
         private void readValue(int itsSort) {
             text.advance();
-            int fresh = newName();
+            int fresh = newName(modules, NAMES);
             int wide = readWidth();
             int place = text.start;
             text.need('=');
@@ -1086,18 +1096,12 @@ public final class ChipFlow {
 
         private void readRegister() {
             text.advance();
-            int fresh = newName();
+            int fresh = newName(modules, NAMES);
             int wide = readWidth();
             int begin = 0;
             if (text.kind == '=') {
                 text.advance();
-                if (text.kind != Text.NUMBER) {
-                    text.fail(2, text.start);
-                }
-                begin = text.value;
-                if (begin >> wide != 0) {
-                    text.fail(12, text.start);
-                }
+                begin = numberAtHand(0, (1 << wide) - 1);
                 text.advance();
             }
             emit(HOLD, moduleNames[modules], 0);
@@ -1125,7 +1129,7 @@ public final class ChipFlow {
         private void readUse() {
             text.advance();
             int place = text.start;
-            int fresh = newName();
+            int fresh = newName(modules, NAMES);
             if (text.kind != Text.NAME) {
                 text.fail(2, text.start);
             }
@@ -1185,52 +1189,36 @@ public final class ChipFlow {
         void readLibrary(Library cells) {
             library = cells;
             cells.count = 0;
-            moduleNames[0] = 0;
+            moduleNames[CELL_ROW] = 0;
             text.begin();
             for (int guard = 0; guard <= Library.CELLS && (cells.count == 0 || text.kind != Text.END); guard++) {
                 text.need(Text.CELL);
-                int fresh = newCellName(0, Library.CELLS);
+                int fresh = newName(CELL_ROW, Library.CELLS);
                 text.need('(');
                 readCellInputs();
                 text.need('=');
-                int states = 1 << moduleNames[1];
+                int states = 1 << moduleNames[INPUT_ROW];
                 int table = expression() & (1 << states) - 1;
                 text.need(',');
                 int area = readMeasure(1000);
                 text.need(',');
                 int delay = readMeasure(100);
                 text.need(';');
-                name[cells.count] = fresh;
-                moduleNames[0]++;
-                cells.addCell(moduleNames[1], table, area, delay);
+                name[CELL_ROW * NAMES + cells.count] = fresh;
+                moduleNames[CELL_ROW]++;
+                cells.addCell(moduleNames[INPUT_ROW], table, area, delay);
             }
             cells.findInverter();
             cells.used = true;
         }
 
-        /** Row 0 of the names has a library's cells, row 1 the inputs of the cell at hand. */
-        private int newCellName(int row, int most) {
-            if (text.kind != Text.NAME) {
-                text.fail(2, text.start);
-            }
-            int fresh = text.packedName();
-            if (find(row, fresh) != NONE) {
-                text.fail(10, text.start);
-            }
-            if (moduleNames[row] == most) {
-                text.fail(15, text.start);
-            }
-            text.advance();
-            return fresh;
-        }
-
         private void readCellInputs() {
-            moduleNames[1] = 0;
+            moduleNames[INPUT_ROW] = 0;
             boolean more = true;
             for (int guard = 0; guard <= CELL_INPUTS && more; guard++) {
-                int fresh = newCellName(1, CELL_INPUTS);
-                name[NAMES + moduleNames[1]] = fresh;
-                moduleNames[1]++;
+                int fresh = newName(INPUT_ROW, CELL_INPUTS);
+                name[INPUT_ROW * NAMES + moduleNames[INPUT_ROW]] = fresh;
+                moduleNames[INPUT_ROW]++;
                 more = text.kind == ',';
                 if (more) {
                     text.advance();
@@ -1240,13 +1228,7 @@ public final class ChipFlow {
         }
 
         private int readMeasure(int most) {
-            if (text.kind != Text.NUMBER) {
-                text.fail(2, text.start);
-            }
-            int measure = text.value;
-            if (measure < 1 || measure > most) {
-                text.fail(12, text.start);
-            }
+            int measure = numberAtHand(1, most);
             text.advance();
             return measure;
         }
@@ -1331,7 +1313,7 @@ public final class ChipFlow {
         }
 
         private void readCellInput() {
-            int input = find(1, text.packedName());
+            int input = find(INPUT_ROW, text.packedName());
             if (input == NONE) {
                 text.fail(11, text.start);
             }
@@ -1347,13 +1329,7 @@ public final class ChipFlow {
                 text.fail(2, text.start);
             }
             text.advance();
-            if (text.kind != Text.NUMBER) {
-                text.fail(2, text.start);
-            }
-            int wide = text.value;
-            if (wide < 1 || wide > 8) {
-                text.fail(12, text.start);
-            }
+            int wide = numberAtHand(1, MOST_WIDE);
             text.advance();
             if (value >> wide != 0) {
                 text.fail(12, place);
@@ -1394,7 +1370,7 @@ public final class ChipFlow {
                 emit(LOAD, symbol, 0);
             }
             if (dot) {
-                nameBit(wide);
+                emit(BIT, numberAtHand(0, wide - 1), 0);
                 text.advance();
             }
             hold(dot ? 1 : wide);
@@ -1408,16 +1384,6 @@ public final class ChipFlow {
             }
             emit(PART, symbol, output);
             return width[at];
-        }
-
-        private void nameBit(int wide) {
-            if (text.kind != Text.NUMBER) {
-                text.fail(2, text.start);
-            }
-            if (text.value >= wide) {
-                text.fail(12, text.start);
-            }
-            emit(BIT, text.value, 0);
         }
 
         /**
@@ -1600,7 +1566,7 @@ public final class ChipFlow {
     /** Works out a design's code to its graph, then sweeps that. */
     private static final class Builder {
         private static final int INSTANCES = 200;
-        private static final int WIDTH = 8;
+        private static final int WIDTH = Reader.MOST_WIDE;
         private static final int BUCKETS = 4096;
         private static final int WORDS = Design.PATTERNS / 64;
         private static final int COUNTLESS = 100000;
@@ -2642,6 +2608,20 @@ public final class ChipFlow {
         }
 
         int placeAll(Chip c, int width) {
+            int needed = layOut(c, width, false);
+            if (needed > ROWS) {
+                return NONE;
+            }
+            layOut(c, width, true);
+            sites = width;
+            rows = needed;
+            height = Math.max(3 * rows + 2, Math.max(c.inputs, c.outputs));
+            measureAll(c);
+            return rows;
+        }
+
+        /** How many rows the elements need; where they come to be is kept only if that may be. */
+        private int layOut(Chip c, int width, boolean keep) {
             int row = 0;
             int site = 0;
             for (int e = 0; e < c.elements(); e++) {
@@ -2649,27 +2629,13 @@ public final class ChipFlow {
                     row++;
                     site = 0;
                 }
-                site += sizeOf[e];
-            }
-            if (row >= ROWS) {
-                return NONE;
-            }
-            sites = width;
-            rows = row + 1;
-            height = Math.max(3 * rows + 2, Math.max(c.inputs, c.outputs));
-            row = 0;
-            site = 0;
-            for (int e = 0; e < c.elements(); e++) {
-                if (site + sizeOf[e] > width) {
-                    row++;
-                    site = 0;
+                if (keep) {
+                    siteOf[e] = site;
+                    rowOf[e] = row;
                 }
-                siteOf[e] = site;
-                rowOf[e] = row;
                 site += sizeOf[e];
             }
-            measureAll(c);
-            return rows;
+            return row + 1;
         }
 
         private void measureAll(Chip c) {
