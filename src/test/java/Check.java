@@ -64,6 +64,29 @@ final class Check {
         same(what, of(call), "throws.UnsupportedOperationException");
     }
 
+    /** A call that is refused with an exception of that name, behind which nothing has changed. */
+    static void refused(ChipFlow x, String exception, String what, Call call) {
+        String before = Picture.of(x);
+        same(what, of(call), "throws." + exception);
+        same(what + " changes nothing", Picture.of(x), before);
+    }
+
+    static void noIndex(ChipFlow x, String what, Call call) {
+        refused(x, "IndexOutOfBoundsException", what, call);
+    }
+
+    static void noArgument(ChipFlow x, String what, Call call) {
+        refused(x, "IllegalArgumentException", what, call);
+    }
+
+    static void noState(ChipFlow x, String what, Call call) {
+        refused(x, "IllegalStateException", what, call);
+    }
+
+    static void noRoom(ChipFlow x, String what, Call call) {
+        refused(x, "UnsupportedOperationException", what, call);
+    }
+
     static void feed(ChipFlow x, String text) {
         int before = x.tape();
         StringBuilder all = new StringBuilder(text);
