@@ -1,6 +1,6 @@
-import java.util.ArrayList;
-import java.util.List;
+import java.util.Map;
 import java.util.Random;
+import java.util.TreeMap;
 import java.util.TreeSet;
 
 /** Section 4 and promises 20 to 27: the largest chips, chips that cannot be, ways of one cost, wrong numbers. */
@@ -317,6 +317,7 @@ public final class EdgeChipTest {
     /** THE WAY of several of the least cost: by cells, by cuts, by orders, by turns; cuts of 3 nodes at most. */
     private static void ways() {
         String[] designs = {
+            "module m { in a ; in b ; in c ; in d ; out y = (a & d) & (b & c) ; out z = !(a & c) & !(b & d) ; }",
             "module m { in a ; in b ; in c ; in d ; out y = a & b & c & d ; }",
             "module m { in a ; in b ; in c ; in d ; out y = (a & b) & (c & d) ; }",
             "module m { in a ; in b ; in c ; in d ; out y = !(a & b) & !(c & d) ; out z = a ^ b ^ c ^ d ; }",
@@ -339,6 +340,44 @@ public final class EdgeChipTest {
                 mapped(x, 0, 0);
             }
         }
+    }
+
+    /** A row of ANDs, each of the one before, turned, and an input: all of other functions. */
+    static String decisions(int ands, int seed) {
+        Random random = new Random(seed);
+        StringBuilder text = new StringBuilder("module m { in a : 6 ; reg b : 6 ; ");
+        String last = "a.0";
+        int turn = 0;
+        for (int k = 0; k < ands; k += 30) {
+            StringBuilder exp = new StringBuilder(last);
+            for (int i = k; i < k + 30 && i < ands; i++) {
+                int next = (turn + 1 + random.nextInt(11)) % 12;
+                turn = next;
+                exp.insert(0, "!(").append(") & ").append(name(next));
+            }
+            text.append(k + 30 < ands ? "let" : "out").append(" n").append(k).append(" = ").append(exp).append(" ; ");
+            last = "n" + k;
+        }
+        return text.append("}").toString();
+    }
+
+    /** Chips of the last of 1000 nodes, and of a tree of so many: all rows are long enough. */
+    private static void deepGraphs() {
+        ChipFlow x = new ChipFlow();
+        Check.library(x, AND_ONLY);
+        Check.library(x, Check.NAND);
+        String junk = EdgeMachineTest.ands(164, 0).replace("out z", "let z");
+        Check.design(x, junk.replace("}", "let t = x.0 & !y.0 ; let u = !x.1 & y.3 ; let v = x.2 & !y.5 ; let w = y.1 & y.2 ; "
+                + "out p = (t ? u : v) & w ; out q = t ^ w ; }"));
+        Check.same("9: ANDs", x.graph(0, 3) > 990, true);
+        Check.same("20: of the last nodes", mapped(x, 0, 1), 0);
+        Check.design(x, decisions(990, 1));
+        Check.same("9: ANDs", x.graph(1, 3), 990);
+        Check.same("9: most of them stay", x.graph(1, 5) > 950, true);
+        Check.same("9: in one row", x.graph(1, 4), 990);
+        Check.same("20: no inverter", x.map(1, 0), -1);
+        Check.same("20: too many gates", mapped(x, 1, 1), -2);
+        Check.same("20: the next chip is as it should be", mapped(x, 0, 1), 1);
     }
 
     private static String randomCells(Random random) {
@@ -365,12 +404,10 @@ public final class EdgeChipTest {
         Random random = new Random(20);
         int made = 0;
         for (int turn = 0; turn < 120; turn++) {
-            List<PlainGraph.Exp> names = new ArrayList<>();
-            names.add(new PlainGraph.Exp("a", 7, new int[] {2, 4, 6}));
-            names.add(new PlainGraph.Exp("b", 7, new int[] {8, 10}));
-            PlainGraph plain = new PlainGraph(5, turn);
-            String text = "module m { in a : 3 ; in b : 2 ; out y : 2 = " + plain.grow(names, 2, 3).text() + " ; out z = "
-                    + plain.grow(names, 1, 2).text() + " ; reg r ; r <- " + plain.grow(names, 1, 3).text() + " ^ r ; }";
+            Map<String, Integer> names = new TreeMap<>(Map.of("a", 3, "b", 2));
+            String text = "module m { in a : 3 ; in b : 2 ; out y : 2 = " + PlainMachine.expression(names, 2, turn) + " ; out z = "
+                    + PlainMachine.expression(names, 1, turn + 1000) + " ; reg r ; r <- (" + PlainMachine.expression(names, 1, turn + 2000)
+                    + ") ^ r ; }";
             ChipFlow x = new ChipFlow();
             Check.same("library", Check.library(x, randomCells(random)), 0);
             Check.same("design", Check.design(x, text), 0);
@@ -389,6 +426,7 @@ public final class EdgeChipTest {
         played();
         proved();
         ways();
+        deepGraphs();
         randomChips();
         Check.finish("EdgeChipTest");
     }

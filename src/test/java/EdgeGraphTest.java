@@ -1,5 +1,7 @@
-import java.util.ArrayList;
-import java.util.List;
+import java.util.BitSet;
+import java.util.HashMap;
+import java.util.Map;
+import java.util.TreeSet;
 
 /** Section 2 and promises 9 to 12: the least and the largest graphs, and numbers that are not there. */
 public final class EdgeGraphTest {
@@ -185,65 +187,89 @@ public final class EdgeGraphTest {
         Check.same("9: no AND is needed", x.graph(0, 5), 0);
     }
 
-    private static List<PlainGraph.Exp> inputs(int[] widths) {
-        List<PlainGraph.Exp> names = new ArrayList<>();
-        int node = 1;
-        for (int w = 0; w < widths.length; w++) {
-            int[] bits = new int[widths[w]];
-            for (int k = 0; k < bits.length; k++) {
-                bits[k] = 2 * node;
-                node++;
-            }
-            names.add(new PlainGraph.Exp("i" + w, 7, bits));
-        }
-        return names;
-    }
-
-    /** Random items: every AND in its order, every root, what each node stands for. */
+    /** Random designs of several modules: every AND in its order, every root, every swept node, or the fault. */
     private static void randomMachines() {
-        int[][] shapes = {{8, 4}, {1, 2, 3}, {6, 6}, {5, 1}, {3, 4}, {7}, {2, 2, 2}, {1, 1}, {4, 8}, {1}};
-        for (int seed = 0; seed < 60; seed++) {
-            int[] widths = shapes[seed % shapes.length];
-            List<PlainGraph.Exp> names = inputs(widths);
-            int bits = 0;
-            StringBuilder text = new StringBuilder("module m { ");
-            for (int w = 0; w < widths.length; w++) {
-                text.append("in i").append(w).append(" : ").append(widths[w]).append(" ; ");
-                bits += widths[w];
-            }
-            PlainGraph plain = new PlainGraph(bits, seed);
-            List<Integer> roots = new ArrayList<>();
-            for (int item = 0; item < 4; item++) {
-                int width = 1 + (seed * 3 + item * item) % 5;
-                PlainGraph.Exp e = plain.grow(names, width, 3);
-                boolean out = item != 1;
-                text.append(out ? "out n" : "let n").append(item).append(" : ").append(width).append(" = ").append(e.text()).append(" ; ");
-                names.add(new PlainGraph.Exp("n" + item, 7, e.bits()));
-                for (int k = 0; out && k < width; k++) {
-                    roots.add(e.bits()[k]);
-                }
-            }
-            if (plain.ands.size() <= 1000 && roots.size() <= 16) {
-                compare(house(text.append("}").toString()), plain, roots, bits);
+        int good = 0;
+        for (int seed = 0; seed < 1500; seed++) {
+            PlainMachine due = new PlainMachine(seed);
+            ChipFlow x = new ChipFlow();
+            Check.same("4: design of " + due.text, Check.design(x, due.text), due.fault() == 0 ? 0 : -1 - due.place());
+            Check.same("6: fault of " + due.text, x.fault(), due.fault());
+            if (x.isThere(0, 0)) {
+                compare(x, due);
+                good++;
             }
         }
+        Check.same("many were good", good > 500, true);
     }
 
-    private static void compare(ChipFlow x, PlainGraph plain, List<Integer> roots, int bits) {
+    private static void compare(ChipFlow x, PlainMachine due) {
+        PlainGraph plain = due.graph;
         Check.same("9: ANDs", x.graph(0, 3), plain.ands.size());
-        for (int k = 0; k < plain.ands.size() && k < x.graph(0, 3); k++) {
+        Check.same("9: inputs", x.graph(0, 0), due.inputs);
+        Check.same("9: registers", x.graph(0, 1), due.registers);
+        Check.same("9: outputs", x.graph(0, 2), due.outputs);
+        Check.same("9: beginning", x.graph(0, 7), due.beginning);
+        for (int k = 0; k < plain.ands.size(); k++) {
             Check.same("10: the lesser", x.literal(0, plain.firstAnd + k, 0), plain.ands.get(k)[0]);
             Check.same("10: the other", x.literal(0, plain.firstAnd + k, 1), plain.ands.get(k)[1]);
         }
-        for (int k = 0; k < roots.size(); k++) {
-            Check.same("12: root", x.root(0, k, false), roots.get(k));
+        for (int k = 0; k < due.outputs; k++) {
+            Check.same("12: output", x.root(0, k, false), due.outRoots.get(k));
         }
-        for (int pattern = 0; pattern < 1 << bits; pattern += 1 + (1 << bits) / 37) {
-            int due = 0;
-            for (int k = 0; k < roots.size(); k++) {
-                due |= plain.value(roots.get(k), pattern) << k;
+        for (int k = 0; k < due.registers; k++) {
+            Check.same("12: next value", x.root(0, k, true), due.nextRoots.get(k));
+        }
+        compareValues(x, due);
+    }
+
+    /** Over all patterns: what nodes stand for, which states are reached, what a clock answers. */
+    private static void compareValues(ChipFlow x, PlainMachine due) {
+        int patterns = 1 << due.inputs + due.registers;
+        int[] next = new int[patterns];
+        int[] outputs = new int[patterns];
+        Map<String, Integer> functions = new HashMap<>();
+        int nodes = due.graph.firstAnd + due.graph.ands.size();
+        BitSet[] rows = new BitSet[nodes];
+        for (int n = 0; n < nodes; n++) {
+            rows[n] = new BitSet();
+        }
+        for (int p = 0; p < patterns; p++) {
+            int[] value = due.graph.values(p);
+            for (int n = 0; n < nodes; n++) {
+                rows[n].set(p, value[n] == 1);
             }
-            Check.same("14: play", x.play(0, pattern), due);
+            for (int k = 0; k < due.outputs; k++) {
+                outputs[p] |= (value[due.outRoots.get(k) >> 1] ^ due.outRoots.get(k) & 1) << k;
+            }
+            for (int k = 0; k < due.registers; k++) {
+                next[p] |= (value[due.nextRoots.get(k) >> 1] ^ due.nextRoots.get(k) & 1) << k;
+            }
+        }
+        for (int n = 0; n < nodes; n++) {
+            BitSet turned = (BitSet) rows[n].clone();
+            turned.flip(0, patterns);
+            functions.putIfAbsent(rows[n].toString(), 2 * n);
+            functions.putIfAbsent(turned.toString(), 2 * n + 1);
+            Check.same("11: swept", x.swept(0, n), functions.get(rows[n].toString()));
+        }
+        TreeSet<Integer> reached = new TreeSet<>();
+        reach(reached, next, due.beginning, due.inputs);
+        Check.same("9: reached", x.graph(0, 6), reached.size());
+        int state = due.beginning;
+        for (int turn = 0; turn < 20; turn++) {
+            int input = turn * 37 % (1 << due.inputs);
+            Check.same("14: play", x.play(0, input), outputs[state << due.inputs | input]);
+            state = next[state << due.inputs | input];
+            Check.same("15: state", x.state(0), state);
+        }
+    }
+
+    private static void reach(TreeSet<Integer> reached, int[] next, int state, int inputs) {
+        if (reached.add(state)) {
+            for (int input = 0; input < 1 << inputs; input++) {
+                reach(reached, next, next[state << inputs | input], inputs);
+            }
         }
     }
 

@@ -1,3 +1,5 @@
+import java.lang.reflect.Field;
+import java.util.Arrays;
 import java.util.List;
 
 /** Section 7 and promises 36 to 42: no boxes, as many as may be, boxes at their bounds, gaps and touches by one. */
@@ -161,6 +163,43 @@ public final class EdgeLayoutTest {
         Check.same("37: the added ones went", x.box(0, -1, 0), first);
     }
 
+    private static Object part(Object of, String name) throws ReflectiveOperationException {
+        Field field = of.getClass().getDeclaredField(name);
+        field.setAccessible(true);
+        return field.get(of);
+    }
+
+    /**
+     * 36: they would be more than 2000 (nothing is drawn then). Texts are not known to lead to so
+     * many boxes (the most that was found is 1500), so points are given to nets by hand here.
+     */
+    private static void tooManyToDraw() throws ReflectiveOperationException {
+        ChipFlow x = Check.chip(EdgeChipTest.chains(150), "cell and (a,b) = a & b , 2 , 1 ;");
+        x.place(0, 60);
+        x.route(0, 0);
+        Object board = part(((Object[]) part(x, "chips"))[0], "board");
+        int[] owner = (int[]) part(board, "owner");
+        Arrays.fill((int[]) part(board, "steps"), 0);
+        Arrays.fill(owner, -1);
+        for (int p = 0; p < 2000; p++) {
+            owner[p] = p % 162;
+        }
+        Check.same("36: 2000 boxes", x.draw(0), 2000);
+        Check.same("37: 2000 boxes", x.box(0, -1, 0), 2000);
+        Check.noRoom(x, "38: no more", () -> x.add(0, 0, 0, 0, 2, 2));
+        owner[2000] = 7;
+        Check.noRoom(x, "36: 2001 boxes", () -> x.draw(0));
+        Check.same("36: the layout from before stays", x.box(0, -1, 0), 2000);
+        owner[3] = -1;
+        Check.same("36: 2000 again", x.draw(0), 2000);
+        x.route(0, 0);
+        for (int p = 0; p < owner.length; p++) {
+            owner[p] = 0;
+        }
+        Check.noRoom(x, "36: far too many, and nothing was drawn before", () -> x.draw(0));
+        Check.noState(x, "37: nothing is drawn", () -> x.box(0, -1, 0));
+    }
+
     /** 39: those behind have numbers one less; down to none. */
     private static void emptyLayout() {
         ChipFlow x = Check.drawn();
@@ -267,6 +306,105 @@ public final class EdgeLayoutTest {
         Check.same("41: of the layout as it is", x.violation(0, 2, 0) * 1000 + x.violation(0, 2, 1), first * 1000 + first + 2);
     }
 
+    private static ChipFlow emptied() {
+        ChipFlow x = Check.drawn();
+        for (int b = x.box(0, -1, 0) - 1; b >= 0; b--) {
+            x.erase(0, b);
+        }
+        return x;
+    }
+
+    /** 40, 41: violations of the first box and of the last, each asked for without another call before. */
+    private static void firstAndLastBox() {
+        ChipFlow x = emptied();
+        x.add(0, 0, 0, 0, 1, 9);
+        Check.same("41: thin, the first box", x.violation(0, 0, 0), 0);
+        Check.same("40: check", x.check(0), 1);
+        x.add(0, 0, 20, 0, 29, 9);
+        Check.same("41: still the first box", x.violation(0, 0, 0), 0);
+        Check.noIndex(x, "41: no more", () -> x.violation(0, 1, 0));
+        x.add(0, 0, 30, 0, 39, 9);
+        Check.same("41: the last two boxes", x.violation(0, 1, 0) * 10 + x.violation(0, 1, 1), 12);
+        x.add(0, 0, 2, 0, 11, 9);
+        Check.same("41: the first and the last box", x.violation(0, 1, 0) * 10 + x.violation(0, 1, 1), 3);
+        Check.same("41: the others behind them", x.violation(0, 2, 0) * 10 + x.violation(0, 2, 1), 12);
+        x.erase(0, 0);
+        Check.same("41: one less", x.violation(0, 0, 0) * 10 + x.violation(0, 0, 1), 1);
+        Check.noIndex(x, "41: no more", () -> x.violation(0, 1, 0));
+        x.erase(0, 1);
+        Check.noIndex(x, "41: none", () -> x.violation(0, 0, 0));
+        x.add(0, 0, 40, 0, 41, 1);
+        Check.same("41: thin, the last box", x.violation(0, 0, 0), 2);
+        Check.same("41: one of its own", x.violation(0, 0, 1), -1);
+        Check.same("36: drawn anew", x.draw(0) > 0, true);
+        Check.noIndex(x, "41: none", () -> x.violation(0, 0, 0));
+    }
+
+    /** SHORTS of every two pins side by side, covered by one box alone; every pin alone. */
+    private static void everyPin() {
+        String[] designs = {Check.PAIR, Check.COUNTER, "module m { reg r : 2 ; r <- r + 1@2 ; out y = r.0 ; out z = !r.1 ; }"};
+        for (String design : designs) {
+            ChipFlow x = Check.chip(design, Check.NAND);
+            Model m = new Model(x, 0, 0, 0);
+            x.place(0, 40);
+            x.route(0, 0);
+            x.draw(0);
+            for (int b = x.box(0, -1, 0) - 1; b >= 0; b--) {
+                x.erase(0, b);
+            }
+            List<int[]> pins = m.pins();
+            for (int[] p : pins) {
+                x.add(0, 0, 4 * p[1] - 1, 4 * p[2] - 1, 4 * p[1] + 1, 4 * p[2] + 1);
+                Check.same("42: a part with a pin", x.found(0, 3), pins.size());
+                Check.same("42: none without", x.found(0, 4), 0);
+                x.erase(0, 0);
+                for (int[] q : pins) {
+                    if (q[2] == p[2] && q[1] == p[1] + 1) {
+                        x.add(0, 0, 4 * p[1], 4 * p[2], 4 * q[1], 4 * q[2] + 1);
+                        Check.same("42: shorts", x.found(0, 1), p[0] == q[0] ? 0 : 1);
+                        Check.same("42: parts", x.found(0, 3), pins.size() - 1);
+                        x.erase(0, 0);
+                    }
+                }
+            }
+        }
+    }
+
+    /** A pin of a flop whose next value is tied: it has no net, but a part that has it is one with a pin. */
+    private static void tiedPins() {
+        ChipFlow x = Check.chip("module m { in a ; in b ; reg r : 6 ; r <- 42@6 ; out y = r.0 ; out z = a & b ; }", Check.NAND);
+        Model m = new Model(x, 0, 0, 0);
+        x.place(0, 30);
+        x.route(0, 12);
+        x.draw(0);
+        for (int b = x.box(0, -1, 0) - 1; b >= 0; b--) {
+            x.erase(0, b);
+        }
+        int nets = 0;
+        for (int[] pin : m.pins()) {
+            nets += pin[0] >= 0 ? 1 : 0;
+        }
+        Check.same("42: without a box it is none", x.found(0, 3), nets);
+        for (int e = 0; e < x.chip(0, 4); e++) {
+            for (int k = 0; k < 4; k++) {
+                int at = 4 * (1 + x.at(0, e, 0) + k);
+                int y = 4 * (3 * x.at(0, e, 1) + 1);
+                x.add(0, 0, at - 1, y - 1, at + 1, y + 1);
+                boolean free = true;
+                boolean tied = false;
+                for (int[] pin : m.pins()) {
+                    boolean here = 4 * pin[1] == at && 4 * pin[2] == y;
+                    free &= !here;
+                    tied |= here && pin[0] < 0;
+                }
+                Check.same("42: parts with a pin", x.found(0, 3), nets + (tied ? 1 : 0));
+                Check.same("42: parts without", x.found(0, 4), free ? 1 : 0);
+                Check.same("42: no matter for nets", x.found(0, 1), 0);
+                x.erase(0, 0);
+            }
+        }
+    }
+
     private static void found(ChipFlow x, int... due) {
         for (int what = 0; what < 5; what++) {
             Check.same("42: found " + what, x.found(0, what), due[what]);
@@ -350,16 +488,20 @@ public final class EdgeLayoutTest {
         found(x, 1, 0, 0, 1, 0);
     }
 
-    public static void main(String[] args) {
+    public static void main(String[] args) throws ReflectiveOperationException {
         numbersOfChips();
         whenUndrawn();
         numbersOfBoxes();
         boundsOfBoxes();
         fullLayout();
+        tooManyToDraw();
         emptyLayout();
         thinOnes();
         nearOnes();
         orderOfViolations();
+        firstAndLastBox();
+        everyPin();
+        tiedPins();
         pinsAtEdges();
         shortsAndOpens();
         drawnOnes();

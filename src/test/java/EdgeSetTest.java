@@ -247,6 +247,24 @@ public final class EdgeSetTest {
         whole("module m { in a : 6 ; reg b : 6 ; out y = " + and + " ; b <- 63@6 ; }", "cell and (a,b) = a & b , 1 , 1 ;");
     }
 
+    /** Random chips of few bits. */
+    private static void randomSets() {
+        int made = 0;
+        for (int seed = 0; seed < 3000 && made < 100; seed++) {
+            PlainMachine machine = new PlainMachine(seed);
+            if (machine.fault() == 0 && machine.inputs + machine.registers <= 6 && machine.graph.ands.size() < 80) {
+                ChipFlow x = new ChipFlow();
+                Check.library(x, Check.LIBRARY);
+                Check.design(x, machine.text);
+                if (x.map(0, 0) == 0 && x.chip(0, 0) > 1 && x.chip(0, 0) < 25) {
+                    whole(machine.text, Check.LIBRARY);
+                    made++;
+                }
+            }
+        }
+        Check.same("50: sets of random chips", made, 100);
+    }
+
     /** Faults of the largest chip: 2 for each net and each input of a gate. */
     private static void mostFaults() {
         ChipFlow x = Check.chip(EdgeChipTest.chains(150), "cell and (a,b) = a & b , 2 , 1 ;");
@@ -274,6 +292,7 @@ public final class EdgeSetTest {
         numbersOfPatterns();
         emptySet();
         wholeChips();
+        randomSets();
         mostFaults();
         Check.finish("EdgeSetTest");
     }

@@ -370,6 +370,21 @@ public final class EdgeTextTest {
         Texts.good(B + "out n:2=x?t:x?t:1@2;}");
     }
 
+    /** eq: one == of a sum; what stands behind it is no part of the expression, also at the end of a choice. */
+    private static void secondSame() {
+        Texts.fault(2, B + "let n=x==x~==x;}");
+        Texts.fault(2, B + "let n=x?x:x==x~==x;}");
+        Texts.fault(2, B + "let n=x?x==x~==x:x;}");
+        Texts.fault(2, B + "let n=(x==x~==x);}");
+        Texts.fault(2, B + "let n=(x?x:x?x:x==x~==x);}");
+        Texts.fault(2, B + "use n b(x==x~==x,t);}");
+        Texts.good(B + "out n=x==x&x==x|x==x^x==x;out m=(x==x)==x?x==x:x==x;}");
+        Texts.good(B + "out n=x==(x==(x==x));out m=(x?x:x)==x;}");
+        Texts.fault(2, B + "let n=x?x:x~:x;}");
+        Texts.fault(2, B + "let n=x~:x;}");
+        Texts.fault(2, B + "let n=x?x~)");
+    }
+
     /** 13 at = or <-: the widths of both sides. */
     private static void widthsOfItems() {
         Texts.fault(13, B + "let n~=t;}");
@@ -459,6 +474,7 @@ public final class EdgeTextTest {
         bits();
         widthsOfOperators();
         widthsOfChoices();
+        secondSame();
         widthsOfItems();
         widthsOfArguments();
         countOfArguments();

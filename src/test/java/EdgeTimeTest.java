@@ -219,6 +219,46 @@ public final class EdgeTimeTest {
         noPath(x, 3);
     }
 
+    /** A machine without inputs: net 0 is a register's. */
+    private static void noInputs() {
+        ChipFlow x = Check.chip("module m { reg r ; r <- !r ; out y = r ; }", "cell inv (a) = !a , 1 , 7 ;");
+        // The register's net has three pins, the inverter's two.
+        Check.same("43: the register", x.arrival(0, 0, true), 3 + 2);
+        Check.same("43: the inverter", x.arrival(0, 1, false), 5 + 7 + 1);
+        path(x, 0, 5 + 8 + 2, 1, 0, 1);
+        path(x, 1, 5, 0, 0);
+        noPath(x, 2);
+    }
+
+    /** Paths of chips with many more than forty, with false pairs of all sorts, against all paths there are. */
+    private static void allOfThem() {
+        String[] designs = {Check.COUNTER, "module m { in a : 3 ; in b : 3 ; out s : 3 = a + b ; out e = a == b ; out z = a.2 ; }",
+            "module m { in a : 2 ; reg r : 4 ; r <- r + (a.0 ? 3@4 : 1@4) ; out y = r == 9@4 ; out t = 1@1 ; }",
+            "module m { in a ; in b ; in c ; reg r ; r <- a ^ b ^ c ^ r ; out y = r & a ; }"};
+        String[] libraries = {Check.NAND, Check.LIBRARY};
+        for (String design : designs) {
+            for (String library : libraries) {
+                ChipFlow x = Check.chip(design, library);
+                Model m = new Model(x, 0, 0, 0);
+                boolean[][] wrong = new boolean[m.first][m.ends()];
+                TimeTest.arrivals(m);
+                TimeTest.allPaths(m, wrong);
+                // All ends of a first net become false, one after the other: the longest paths go.
+                for (int turn = 0; turn < 36; turn++) {
+                    int first = x.path(0, turn % 3, 0);
+                    int end = x.path(0, turn % 3, -2);
+                    if (first >= 0 && end >= 0) {
+                        Check.same("44: falsify", x.falsify(0, first, end), true);
+                        wrong[first][end] = true;
+                        TimeTest.allPaths(m, wrong);
+                    }
+                }
+                x.place(0, 50);
+                TimeTest.allPaths(m, wrong);
+            }
+        }
+    }
+
     public static void main(String[] args) {
         numbersOfNets();
         quarters();
@@ -231,6 +271,8 @@ public final class EdgeTimeTest {
         fortyPairs();
         equalLengths();
         overGates();
+        noInputs();
+        allOfThem();
         Check.finish("EdgeTimeTest");
     }
 }

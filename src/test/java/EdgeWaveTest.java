@@ -93,6 +93,27 @@ public final class EdgeWaveTest {
         Check.same("47: longer wires", x.changes(0, 0, 3, -1) > 13, true);
     }
 
+    /** Gates of three inputs, whose inputs change one by one and together. */
+    private static void threeInputs() {
+        ChipFlow x = Check.chip("module m { in a ; in b ; in c ; reg r ; out y = a & b | b & c | a & c ; out z = !(a & b | r) ; out w = a ? b : r ; }",
+                "cell inv (a) = !a , 1 , 2 ; cell nand (a,b) = !(a & b) , 9 , 3 ; cell aoi (a,b,c) = !(a&b|c) , 1 , 5 ; "
+                + "cell oai (a,b,c) = !((a|b)&c) , 1 , 4 ; cell mux (s,a,b) = s&a | !s&b , 1 , 7 ; cell nor (a,b,c) = !(a|b|c) , 1 , 9 ;");
+        Model m = new Model(x, 0, 0, 0);
+        int wide = 0;
+        for (int g = 0; g < m.gates; g++) {
+            wide += m.gateInputs(g) == 3 ? 1 : 0;
+        }
+        Check.same("22: gates of three inputs", wide > 2, true);
+        for (int turn = 0; turn < 2; turn++) {
+            for (int a = 0; a < 16; a++) {
+                for (int b = 0; b < 16; b++) {
+                    WaveTest.stepped(m, a, b, 60);
+                }
+            }
+            x.place(0, 20);
+        }
+    }
+
     /** Two chains of sixteen stages; the inputs z lead nowhere and change once each, if they differ. */
     private static ChipFlow chains() {
         StringBuilder text = new StringBuilder("module st { in a ; in b ; in x ; out y = a ^ (b & x) ; } module ch { in a ; in b ; in x : 5 ; ");
@@ -158,6 +179,7 @@ public final class EdgeWaveTest {
         patterns();
         timeOfChange();
         pulse();
+        threeInputs();
         mostChanges();
         Check.finish("EdgeWaveTest");
     }

@@ -172,11 +172,42 @@ public final class EdgeWireTest {
         Check.same("33: some rounds were too few", cutShort > 0, true);
     }
 
+    /** Small random chips, some without inputs, on few sites and on many. */
+    private static void randomWires() {
+        int made = 0;
+        for (int seed = 0; seed < 400 && made < 60; seed++) {
+            PlainMachine machine = new PlainMachine(seed);
+            ChipFlow x = new ChipFlow();
+            Check.library(x, seed % 2 == 0 ? Check.NAND : Check.LIBRARY);
+            if (machine.fault() != 0 || Check.design(x, machine.text) != 0 || x.map(0, 0) != 0 || x.chip(0, 4) > 40) {
+                continue;
+            }
+            Model m = new Model(x, 0, 0, 0);
+            made++;
+            int[] sites = {4 + seed % 5, 9 + seed % 13, 60 - seed % 20};
+            for (int w : sites) {
+                if (x.place(0, w) > 0) {
+                    same(m, 12);
+                    same(m, seed % 3);
+                }
+            }
+        }
+        String[] closed = {"module m { reg r : 4 = 9 ; r <- r + 3@4 ; out y = r.0 ^ r.3 ; out z = r == 5@4 ; }",
+            "module m { reg r : 6 ; r <- r.0 ? r + 5@6 : !r ; out y : 6 = r ; }",
+            "module m { reg r : 5 ; r <- r ^ (r + 1@5) ; out y = r.4 ; out z = r.1 & r.2 ; out w = 0@1 ; }"};
+        for (String design : closed) {
+            allRouted(design, Check.NAND, 10, 13, 16, 19, 22, 25, 30, 40, 50, 60);
+            allRouted(design, Check.LIBRARY, 6, 8, 11, 14, 17, 20, 26, 33, 60);
+        }
+        Check.same("33: many were routed", made, 60);
+    }
+
     public static void main(String[] args) {
         countOfRounds();
         numbers();
         smallest();
         wires();
+        randomWires();
         Check.finish("EdgeWireTest");
     }
 }

@@ -72,7 +72,7 @@ public final class FaultTest {
         Check.same("and these", x.shows(0, 7, 0), true);
     }
 
-    private static void all(Model m) {
+    static void all(Model m) {
         ChipFlow x = m.x;
         int patterns = 1 << m.first;
         int faults = m.faults();

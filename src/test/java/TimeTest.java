@@ -62,7 +62,7 @@ public final class TimeTest {
         path(x, 0, 5, 1, 1);
     }
 
-    private static void allPaths(Model m, boolean[][] wrong) {
+    static void allPaths(Model m, boolean[][] wrong) {
         List<int[]> all = new ArrayList<>();
         for (int first = 0; first < m.first; first++) {
             go(m, wrong, all, new int[] {first}, m.time(first));
@@ -113,7 +113,7 @@ public final class TimeTest {
         }
     }
 
-    private static void arrivals(Model m) {
+    static void arrivals(Model m) {
         int[][] due = new int[2][m.nets];
         for (int n = 0; n < m.nets; n++) {
             for (int late = 0; late < 2; late++) {

@@ -35,7 +35,7 @@ public final class WaveTest {
     }
 
     /** Every net at every time, by what section 9 tells. */
-    private static void stepped(Model m, int a, int b, int until) {
+    static void stepped(Model m, int a, int b, int until) {
         int[] rest = m.values(a, -1);
         int[] then = m.values(b, -1);
         int[][] value = new int[m.nets][until];
