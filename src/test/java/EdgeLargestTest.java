@@ -192,6 +192,22 @@ public final class EdgeLargestTest {
         Check.same("54: shown", x.faults(0, 2), 1224 - hidden);
     }
 
+    /** The largest chip four times, and again in a place where one was. */
+    private static void again(ChipFlow x) {
+        String before = Picture.of(x);
+        for (int k = 1; k < 4; k++) {
+            Check.same("20: map", x.map(0, 0), k);
+        }
+        for (int k = 3; k > 0; k--) {
+            x.drop(2, k);
+        }
+        Check.same("as it was", Picture.of(x), before);
+        x.drop(2, 0);
+        Check.same("20: in its place", x.map(0, 0), 0);
+        sizes(x);
+        Check.same("28: twelve rows", x.place(0, 55), 12);
+    }
+
     private static boolean isShown(ChipFlow x, int fault, List<Integer> set, int without) {
         for (int k = 0; k < set.size(); k++) {
             if (k != without && x.shows(0, set.get(k), fault)) {
@@ -209,6 +225,7 @@ public final class EdgeLargestTest {
         latest(x);
         faults(x, m);
         placesAndWires(x, m);
+        again(x);
         Check.finish("EdgeLargestTest");
     }
 }

@@ -47,6 +47,8 @@ public final class EdgeLayoutTest {
         Check.noIndex(x, "41: violation -1", () -> x.violation(0, -1, 0));
         Check.noState(x, "38: add", () -> x.add(0, 0, 0, 0, 1, 1));
         Check.noArgument(x, "38: layer before that", () -> x.add(0, 3, 0, 0, 1, 1));
+        Check.noArgument(x, "38: x before that", () -> x.add(0, 0, 1, 0, 1, 1));
+        Check.noArgument(x, "38: y before that", () -> x.add(0, 0, 0, 1, 1, 1));
         Check.noState(x, "40: check", () -> x.check(0));
         Check.noState(x, "42: found", () -> x.found(0, 4));
         Check.noArgument(x, "42: what before that", () -> x.found(0, 5));
@@ -159,6 +161,8 @@ public final class EdgeLayoutTest {
         Check.same("39: erase", x.erase(0, 1999), 1999);
         Check.same("38: room again", x.add(0, 0, 0, 900, 9, 909), 1999);
         Check.noRoom(x, "38: full again", () -> x.add(0, 0, 0, 0, 1, 1));
+        x.route(0, 0);
+        Check.noState(x, "38: a full layout that went is none", () -> x.add(0, 0, 0, 0, 1, 1));
         Check.same("36: drawn anew", x.draw(0), first);
         Check.same("37: the added ones went", x.box(0, -1, 0), first);
     }

@@ -259,6 +259,32 @@ public final class EdgeTimeTest {
         }
     }
 
+    /** The first net leads to the first register alone, and stands before more than forty paths of its length. */
+    private static void crowded() {
+        StringBuilder text = new StringBuilder("module m { in c ; in a : 5 ; reg r : 6 ; ");
+        int made = 0;
+        for (int i = 0; i < 5; i++) {
+            for (int j = i + 1; j < 5; j++) {
+                text.append("out y").append(made).append(" = a.").append(i).append(" & a.").append(j).append(" ; ");
+                made++;
+            }
+        }
+        text.append("let l = a.0 & a.1 & a.2 ; let k = a.1 & a.2 & a.3 ; let h = a.2 & a.3 & a.4 ; out u = l ; out v = k ; out w = h ; ");
+        text.append("r <- (c ? 1@6 : 0@6) | (l ? 2@6 : 0@6) | (k ? 4@6 : 0@6) | (h ? 8@6 : 0@6) | (a.0 ? 16@6 : 0@6) ; }");
+        ChipFlow x = Check.chip(text.toString(), "cell and (a,b) = a & b , 1 , 1 ;");
+        Model m = new Model(x, 0, 0, 0);
+        boolean[][] wrong = new boolean[m.first][m.ends()];
+        TimeTest.allPaths(m, wrong);
+        int place = -1;
+        for (int k = 0; k < 40; k++) {
+            place = x.path(0, k, 0) == 0 ? k : place;
+        }
+        Check.same("45: the path of net 0 is among them", place >= 0, true);
+        Check.same("45: its end", x.path(0, place, -2), 13);
+        Check.same("45: its length", x.path(0, place, -1), 2);
+        Check.same("45: there are more of its length", x.path(0, 39, -1), 2);
+    }
+
     public static void main(String[] args) {
         numbersOfNets();
         quarters();
@@ -272,6 +298,7 @@ public final class EdgeTimeTest {
         equalLengths();
         overGates();
         noInputs();
+        crowded();
         allOfThem();
         Check.finish("EdgeTimeTest");
     }
