@@ -131,28 +131,6 @@ final class Check {
         return x;
     }
 
-    /** All that can be asked of a house without changing it, for tests that nothing changed. */
-    static String picture(ChipFlow x) {
-        StringBuilder all = new StringBuilder();
-        all.append(x.tape()).append(' ').append(x.fault());
-        for (int k = 0; k < 6; k++) {
-            int at = k;
-            all.append(' ').append(of(() -> x.witness(at))).append(' ').append(of(() -> x.state(at)));
-            for (int what = 0; what < 8; what++) {
-                int w = what;
-                all.append(' ').append(of(() -> x.graph(at, w))).append(' ').append(of(() -> x.cell(at, -1, w)));
-                all.append(' ').append(of(() -> x.chip(at, w))).append(' ').append(of(() -> x.found(at, w)));
-                all.append(' ').append(of(() -> x.box(at, w, 1))).append(' ').append(of(() -> x.gate(at, w, 0)));
-                all.append(' ').append(of(() -> x.at(at, w, 0))).append(' ').append(of(() -> x.wire(at, w - 1)));
-                all.append(' ').append(of(() -> x.point(at, w))).append(' ').append(of(() -> x.path(at, w, -1)));
-                all.append(' ').append(of(() -> x.pattern(at, w))).append(' ').append(of(() -> x.suspect(at, w)));
-            }
-            all.append(' ').append(of(() -> x.box(at, -1, 0))).append(' ').append(of(() -> x.check(at)));
-            all.append(' ').append(of(() -> x.faults(at, 2)));
-        }
-        return all.toString();
-    }
-
     static void finish(String test) {
         if (wrong > 0 || done == 0) {
             System.out.println(test + ": " + wrong + " of " + done + " answers are wrong");

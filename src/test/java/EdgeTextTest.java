@@ -370,6 +370,23 @@ public final class EdgeTextTest {
         Texts.good(B + "out n:2=x?t:x?t:1@2;}");
     }
 
+    /** & | ^ have the width of their parts, + too (without the carry), == has 1, ! that of its part, a bit 1. */
+    private static void widthsOfResults() {
+        String[][] rows = {{"t&t", "2"}, {"k^k", "3"}, {"t+t", "2"}, {"k+k", "3"}, {"k==k", "1"}, {"!k", "3"}, {"!!t", "2"},
+            {"k.2", "1"}, {"u.z.1", "1"}, {"u.z", "2"}, {"x?k:k", "3"}, {"x?x:x", "1"}, {"5@7", "7"}, {"(t)", "2"}, {"t==t&x", "1"}};
+        for (String[] row : rows) {
+            int due = Integer.parseInt(row[1]);
+            for (int width = 1; width <= 8; width++) {
+                if (width == due) {
+                    Texts.good(B + "out n:" + width + "=" + row[0] + ";}");
+                } else {
+                    Texts.fault(13, B + "out n:" + width + "~=" + row[0] + ";}");
+                }
+            }
+        }
+        Texts.fault(13, B + "out n:2=t~|k.0;}");
+    }
+
     /** eq: one == of a sum; what stands behind it is no part of the expression, also at the end of a choice. */
     private static void secondSame() {
         Texts.fault(2, B + "let n=x==x~==x;}");
@@ -474,6 +491,7 @@ public final class EdgeTextTest {
         bits();
         widthsOfOperators();
         widthsOfChoices();
+        widthsOfResults();
         secondSame();
         widthsOfItems();
         widthsOfArguments();

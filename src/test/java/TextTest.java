@@ -83,9 +83,9 @@ public final class TextTest {
             Check.same("design", Check.design(x, Check.PAIR), k);
         }
         Check.feed(x, "module $");
-        String before = Check.picture(x);
+        String before = Picture.of(x);
         Check.room("seventh design", () -> x.design());
-        Check.same("nothing changed", Check.picture(x), before);
+        Check.same("nothing changed", Picture.of(x), before);
         Check.same("tape stays", x.tape(), 8);
         for (int k = 0; k < 3; k++) {
             x.end(0);

@@ -58,7 +58,7 @@ public final class UnchangedTest {
         Random r = new Random(7);
         for (int kind = 0; kind < 3; kind++) {
             ChipFlow x = house(kind);
-            String before = Check.picture(x);
+            String before = Picture.of(x);
             for (int turn = 0; turn < 60; turn++) {
                 for (Method m : face) {
                     Object[] given = numbers(m, r);
@@ -66,10 +66,10 @@ public final class UnchangedTest {
                     try {
                         m.invoke(x, given);
                         x = turn % 20 == 19 ? house(kind) : x;
-                        before = Check.picture(x);
+                        before = Picture.of(x);
                     } catch (InvocationTargetException e) {
                         Check.same(call + " throws what it names", isNamed(m, e.getCause()), true);
-                        Check.same(call + " changes nothing", Check.picture(x), before);
+                        Check.same(call + " changes nothing", Picture.of(x), before);
                     }
                 }
             }
