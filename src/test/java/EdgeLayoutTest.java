@@ -310,17 +310,16 @@ public final class EdgeLayoutTest {
         Check.same("41: of the layout as it is", x.violation(0, 2, 0) * 1000 + x.violation(0, 2, 1), first * 1000 + first + 2);
     }
 
-    private static ChipFlow emptied() {
-        ChipFlow x = Check.drawn();
+    private static void eraseAll(ChipFlow x) {
         for (int b = x.box(0, -1, 0) - 1; b >= 0; b--) {
             x.erase(0, b);
         }
-        return x;
     }
 
     /** 40, 41: violations of the first box and of the last, each asked for without another call before. */
     private static void firstAndLastBox() {
-        ChipFlow x = emptied();
+        ChipFlow x = Check.drawn();
+        eraseAll(x);
         x.add(0, 0, 0, 0, 1, 9);
         Check.same("41: thin, the first box", x.violation(0, 0, 0), 0);
         Check.same("40: check", x.check(0), 1);
@@ -353,9 +352,7 @@ public final class EdgeLayoutTest {
             x.place(0, 40);
             x.route(0, 0);
             x.draw(0);
-            for (int b = x.box(0, -1, 0) - 1; b >= 0; b--) {
-                x.erase(0, b);
-            }
+            eraseAll(x);
             List<int[]> pins = m.pins();
             for (int[] p : pins) {
                 x.add(0, 0, 4 * p[1] - 1, 4 * p[2] - 1, 4 * p[1] + 1, 4 * p[2] + 1);
@@ -381,9 +378,7 @@ public final class EdgeLayoutTest {
         x.place(0, 30);
         x.route(0, 12);
         x.draw(0);
-        for (int b = x.box(0, -1, 0) - 1; b >= 0; b--) {
-            x.erase(0, b);
-        }
+        eraseAll(x);
         int nets = 0;
         for (int[] pin : m.pins()) {
             nets += pin[0] >= 0 ? 1 : 0;
@@ -452,9 +447,7 @@ public final class EdgeLayoutTest {
         found(x, 0, 3, 0, 2, 0);
         x.add(0, 2, -1000, -1000, 1000, 1000);
         found(x, 0, 6, 0, 1, 0);
-        for (int b = x.box(0, -1, 0) - 1; b >= 0; b--) {
-            x.erase(0, b);
-        }
+        eraseAll(x);
         x.add(0, 0, 0, 0, 1, 4);
         found(x, 0, 1, 4, 7, 0);
     }

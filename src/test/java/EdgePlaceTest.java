@@ -1,6 +1,3 @@
-import java.util.ArrayList;
-import java.util.List;
-
 /** Section 5 and promises 28 to 32: sites and rows at their bounds, moves that just can be, what goes. */
 public final class EdgePlaceTest {
     private static final int LEAST = -2147483648;
@@ -76,7 +73,7 @@ public final class EdgePlaceTest {
         // Two flops (2 sites), an inverter (2), a nand (3), the nor (3).
         ChipFlow x = Check.chip("module m { in a ; in b ; reg r : 2 ; r <- (a & b) ? 1@2 : 2@2 ; out y = r.0 ; out z = !(a | b) ; }",
                 "cell nand (a,b) = !(a & b) , 2 , 3 ; cell inv (a) = !a , 1 , 2 ; cell nor (a,b) = !(a|b) , 2 , 4 ;");
-        int[] size = sizes(new Model(x, 0, 0, 0));
+        int[] size = PlainPlaces.sizes(new Model(x, 0, 0, 0));
         for (int sites = 4; sites <= 20; sites++) {
             int rows = x.place(0, sites);
             int row = 0;
@@ -92,14 +89,6 @@ public final class EdgePlaceTest {
             }
             Check.same("28: rows", rows, row + 1);
         }
-    }
-
-    private static int[] sizes(Model m) {
-        int[] size = new int[m.registers + m.gates];
-        for (int e = 0; e < size.length; e++) {
-            size[e] = e < m.registers ? 2 : m.gateInputs(e - m.registers) + 1;
-        }
-        return size;
     }
 
     /** Rows are one at least; H is the greatest of 3 * rows + 2, the bits of inputs, those of outputs. */
@@ -225,90 +214,6 @@ public final class EdgePlaceTest {
         moves(x, 0, 0, 0);
     }
 
-    /** TO IMPROVE, so many passes, over places of the test's own; each exchange only if the wire gets less. */
-    private static int improved(Model m, int[] size, int passes) {
-        List<int[]> pins = m.pins();
-        int elements = size.length;
-        int[] site = new int[elements];
-        int[] row = new int[elements];
-        for (int e = 0; e < elements; e++) {
-            site[e] = m.x.at(0, e, 0);
-            row[e] = m.x.at(0, e, 1);
-        }
-        boolean changed = true;
-        boolean ever = false;
-        for (int pass = 0; pass < passes && changed; pass++) {
-            changed = false;
-            for (int i = 0; i < elements; i++) {
-                for (int j = i + 1; j < elements; j++) {
-                    if (size[i] == size[j]) {
-                        int before = whole(m, pins, size, site, row);
-                        swap(site, row, i, j);
-                        if (whole(m, pins, size, site, row) < before) {
-                            changed = true;
-                            ever = true;
-                        } else {
-                            swap(site, row, i, j);
-                        }
-                    }
-                }
-            }
-        }
-        int due = whole(m, pins, size, site, row);
-        Check.same("31: its wire then", m.x.improve(0, passes), due);
-        for (int e = 0; e < elements; e++) {
-            Check.same("31: site of " + e, m.x.at(0, e, 0), site[e]);
-            Check.same("31: row of " + e, m.x.at(0, e, 1), row[e]);
-        }
-        return ever ? 1 : 0;
-    }
-
-    private static void swap(int[] site, int[] row, int i, int j) {
-        int s = site[i];
-        site[i] = site[j];
-        site[j] = s;
-        int r = row[i];
-        row[i] = row[j];
-        row[j] = r;
-    }
-
-    private static int whole(Model m, List<int[]> pins, int[] size, int[] site, int[] row) {
-        int at = 0;
-        for (int e = 0; e < size.length; e++) {
-            for (int k = 0; k < size[e]; k++) {
-                pins.get(at)[1] = 1 + site[e] + k;
-                pins.get(at)[2] = 3 * row[e] + 1;
-                at++;
-            }
-        }
-        int all = 0;
-        for (int net = 0; net < m.nets; net++) {
-            all += wire(pins, net);
-        }
-        return all;
-    }
-
-    /** A net's WIRE: width and height of the box around its pins. */
-    private static int wire(List<int[]> pins, int net) {
-        List<int[]> own = new ArrayList<>();
-        for (int[] pin : pins) {
-            if (pin[0] == net) {
-                own.add(pin);
-            }
-        }
-        int x0 = own.get(0)[1];
-        int x1 = x0;
-        int y0 = own.get(0)[2];
-        int y1 = y0;
-        for (int[] pin : own) {
-            x0 = Math.min(x0, pin[1]);
-            x1 = Math.max(x1, pin[1]);
-            y0 = Math.min(y0, pin[2]);
-            y1 = Math.max(y1, pin[2]);
-        }
-        return x1 - x0 + y1 - y0;
-    }
-
     /** 31: wires and layout go, if any place changed. */
     private static void improvements() {
         String[] designs = {Check.COUNTER, EdgeChipTest.chains(30),
@@ -326,14 +231,14 @@ public final class EdgePlaceTest {
                     for (int turn = 0; turn < 6; turn++) {
                         x.route(0, 0);
                         x.draw(0);
-                        boolean changed = improved(m, sizes(m), passes) == 1;
+                        boolean changed = PlainPlaces.improve(m, passes);
                         kept += changed ? 0 : 1;
                         gone += changed ? 1 : 0;
                         Check.same("31: wires", Check.of(() -> x.point(0, 0)).startsWith("throws"), changed);
                         Check.same("31: layout", Check.of(() -> x.check(0)).startsWith("throws"), changed);
                     }
                     for (int net = 0; net < m.nets; net++) {
-                        Check.same("32: wire", x.wire(0, net), wire(m.pins(), net));
+                        Check.same("32: wire", x.wire(0, net), PlainPlaces.wire(m.pins(), net));
                     }
                 }
             }

@@ -1,6 +1,3 @@
-import java.util.ArrayList;
-import java.util.List;
-
 /** Section 10 and promises 48 to 54: faults and patterns at their bounds, empty sets, no set, suspects. */
 public final class EdgeSetTest {
     private static final int LEAST = -2147483648;
@@ -141,97 +138,8 @@ public final class EdgeSetTest {
         Check.same("53: no suspect", none.suspect(0, 0), -1);
     }
 
-    private static boolean isShown(boolean[] shows, List<Integer> set, int without) {
-        for (int k = 0; k < set.size(); k++) {
-            if (k != without && shows[set.get(k)]) {
-                return true;
-            }
-        }
-        return false;
-    }
-
-    /** Every fault and pattern of a chip, the set and its suspects, worked out anew. */
     private static void whole(String design, String library) {
-        ChipFlow x = Check.chip(design, library);
-        Model m = new Model(x, 0, 0, 0);
-        int patterns = 1 << m.first;
-        int faults = m.faults();
-        boolean[][] shows = new boolean[faults][patterns];
-        int hidden = 0;
-        List<Integer> set = new ArrayList<>();
-        int[] tied = tiedOnes(m);
-        for (int p = 0; p < patterns; p++) {
-            int[] good = m.values(p, -1);
-            for (int f = 0; f < faults; f++) {
-                int[] bad = m.values(p, f);
-                for (int e = 0; e < m.ends(); e++) {
-                    shows[f][p] |= tied[e] >= 0 && good[tied[e]] != bad[tied[e]];
-                }
-            }
-        }
-        Check.same("54: faults", x.faults(0, 0), faults);
-        for (int f = 0; f < faults; f++) {
-            int least = -1;
-            for (int p = patterns - 1; p >= 0; p--) {
-                least = shows[f][p] ? p : least;
-                if (x.shows(0, p, f) != shows[f][p]) {
-                    Check.same("49: shows " + p + " " + f, x.shows(0, p, f), shows[f][p]);
-                }
-            }
-            Check.same("48: test " + f, x.test(0, f), least);
-            hidden += least < 0 ? 1 : 0;
-            if (least >= 0 && !isShown(shows[f], set, -1)) {
-                set.add(least);
-            }
-        }
-        Check.same("54: hidden", x.faults(0, 1), hidden);
-        reduce(shows, set);
-        Check.same("50: tests", x.tests(0), set.size());
-        for (int k = 0; k < set.size(); k++) {
-            Check.same("51: pattern " + k, x.pattern(0, k), set.get(k));
-        }
-        Check.same("54: shown", x.faults(0, 2), faults - hidden);
-        suspects(x, shows, set);
-    }
-
-    private static int[] tiedOnes(Model m) {
-        int[] nets = new int[m.ends()];
-        for (int e = 0; e < nets.length; e++) {
-            nets[e] = m.endNet(e);
-        }
-        return nets;
-    }
-
-    private static void reduce(boolean[][] shows, List<Integer> set) {
-        for (int k = set.size() - 1; k >= 0; k--) {
-            boolean spare = true;
-            for (boolean[] s : shows) {
-                spare &= !isShown(s, set, -1) || isShown(s, set, k);
-            }
-            if (spare) {
-                set.remove(k);
-            }
-        }
-    }
-
-    private static void suspects(ChipFlow x, boolean[][] shows, List<Integer> set) {
-        for (int wanted = 0; wanted < shows.length; wanted += 1 + shows.length / 20) {
-            for (int k = 0; k < set.size(); k++) {
-                x.fails(0, k, shows[wanted][set.get(k)]);
-            }
-            int number = 0;
-            for (int f = 0; f < shows.length; f++) {
-                boolean suspect = isShown(shows[f], set, -1);
-                for (int p : set) {
-                    suspect &= shows[f][p] == shows[wanted][p];
-                }
-                if (suspect) {
-                    Check.same("53: suspect " + number, x.suspect(0, number), f);
-                    number++;
-                }
-            }
-            Check.same("53: no more suspects", x.suspect(0, number), -1);
-        }
+        FaultTest.all(new Model(Check.chip(design, library), 0, 0, 0));
     }
 
     /** Patterns of 1, 5, 6, 7 and 12 bits; ends that are inputs, registers, tied, twice the same. */

