@@ -187,20 +187,61 @@ public final class EdgeGraphTest {
         Check.same("9: no AND is needed", x.graph(0, 5), 0);
     }
 
+    /** A bit of the twelve inputs, as it is or turned, by its literal. */
+    private static String bit(int literal) {
+        int k = (literal >> 1) - 1;
+        return (literal % 2 == 0 ? "" : "!") + (k < 6 ? "a." + k : "b." + (k - 6));
+    }
+
+    /** All pairs of bits, and all again from behind: each AND is found again, and none that shares but one literal. */
+    private static void allPairs() {
+        PlainGraph plain = new PlainGraph(12);
+        StringBuilder text = new StringBuilder("module m { in a : 6 ; in b : 6 ; ");
+        int[] roots = new int[2];
+        for (int turn = 0; turn < 2; turn++) {
+            text.append("out y").append(turn).append(" = 0@1");
+            for (int one = 2; one < 26; one++) {
+                for (int two = one / 2 * 2 + 2; two < 26; two++) {
+                    int a = turn == 0 ? one : 27 - one;
+                    int b = turn == 0 ? two : 27 - two;
+                    text.append(" | ").append(bit(a)).append(" & ").append(bit(b));
+                    int pair = plain.and(a, b);
+                    roots[turn] = plain.or(roots[turn], pair);
+                }
+            }
+            text.append(" ; ");
+        }
+        ChipFlow x = house(text.append("}").toString());
+        Check.same("9: ANDs", x.graph(0, 3), plain.ands.size());
+        Check.same("9: 264 pairs, and 263 to join them, twice", plain.ands.size(), 264 + 2 * 263);
+        for (int k = 0; k < plain.ands.size(); k++) {
+            Check.same("10: the lesser", x.literal(0, 13 + k, 0), plain.ands.get(k)[0]);
+            Check.same("10: the other", x.literal(0, 13 + k, 1), plain.ands.get(k)[1]);
+        }
+        Check.same("12: root", x.root(0, 0, false), roots[0]);
+        Check.same("12: root", x.root(0, 1, false), roots[1]);
+    }
+
     /** Random designs of several modules: every AND in its order, every root, every swept node, or the fault. */
     private static void randomMachines() {
         int good = 0;
         for (int seed = 0; seed < 1500; seed++) {
-            PlainMachine due = new PlainMachine(seed);
-            ChipFlow x = new ChipFlow();
-            Check.same("4: design of " + due.text, Check.design(x, due.text), due.fault() == 0 ? 0 : -1 - due.place());
-            Check.same("6: fault of " + due.text, x.fault(), due.fault());
-            if (x.isThere(0, 0)) {
-                compare(x, due);
-                good++;
-            }
+            good += randomMachine(seed) ? 1 : 0;
         }
         Check.same("many were good", good > 500, true);
+        // One in which a search for an old AND that looks at one literal alone goes wrong.
+        Check.same("a good one", randomMachine(4538606), true);
+    }
+
+    private static boolean randomMachine(long seed) {
+        PlainMachine due = new PlainMachine(seed);
+        ChipFlow x = new ChipFlow();
+        Check.same("4: design of " + due.text, Check.design(x, due.text), due.fault() == 0 ? 0 : -1 - due.place());
+        Check.same("6: fault of " + due.text, x.fault(), due.fault());
+        if (x.isThere(0, 0)) {
+            compare(x, due);
+        }
+        return x.isThere(0, 0);
     }
 
     private static void compare(ChipFlow x, PlainMachine due) {
@@ -283,6 +324,7 @@ public final class EdgeGraphTest {
         states();
         sweptOverAll();
         sweptToConstants();
+        allPairs();
         randomMachines();
         Check.finish("EdgeGraphTest");
     }
