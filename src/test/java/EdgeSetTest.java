@@ -155,6 +155,31 @@ public final class EdgeSetTest {
         whole("module m { in a : 6 ; reg b : 6 ; out y = " + and + " ; b <- 63@6 ; }", "cell and (a,b) = a & b , 1 , 1 ;");
     }
 
+    /**
+     * Sums without a carry in which a fault reaches an end over two ways and may be lost there: one
+     * pattern may be the last that shows the first fault, though others show all else that it shows.
+     */
+    private static void waysThatMeet() {
+        String cells = "cell inv (a) = !a , 1 , 1 ; cell nand (a,b) = !(a & b) , 2 , 1 ; "
+                + "cell nor (a,b) = !(a|b) , 2 , 1 ; cell xor (a,b) = a ^ b , 4 , 1 ; "
+                + "cell xnor (a,b) = !(a^b) , 4 , 1 ; cell and (a,b) = a&b , 3 , 1 ; cell or (a,b) = a|b , 3 , 1 ;";
+        String[] outputs = {"!a ^ (b ^ !c) & (b ^ a)", "(c ^ b | !b ^ a) ^ !a", "(!c ^ b) & (!b | a) ^ !a"};
+        for (String y : outputs) {
+            String design = "module m { in a ; in b ; in c ; out y = " + y + " ; }";
+            whole(design, cells);
+            ChipFlow x = Check.chip(design, cells);
+            int gates = x.chip(0, 0);
+            for (int g = 0; g < gates; g++) {
+                int before = x.gate(0, g, 0);
+                for (int cell = 1; cell < 7 && x.cell(0, before, 0) == 2; cell++) {
+                    x.alter(0, g, cell);
+                    FaultTest.all(new Model(x, 0, 0, 0));
+                }
+                x.alter(0, g, before);
+            }
+        }
+    }
+
     /** Random chips of few bits. */
     private static void randomSets() {
         int made = 0;
@@ -200,6 +225,7 @@ public final class EdgeSetTest {
         numbersOfPatterns();
         emptySet();
         wholeChips();
+        waysThatMeet();
         randomSets();
         mostFaults();
         Check.finish("EdgeSetTest");
